@@ -34,8 +34,10 @@ public final class PaintTongue {
   private static final long VALUE_BITS = 0xFFFFFFFFL;
   private static final long SLICE_BITS = 0x3FFFFFL;
   private static final long NOTHING = -1L;
-  private static final long NULL_THING = 3L << KIND_SHIFT;
-  private static final long MARK_THING = 4L << KIND_SHIFT;
+  private static final long NULL_THING = (long) NULL << KIND_SHIFT;
+  private static final long MARK_THING = (long) MARK << KIND_SHIFT;
+  private static final long FALSE_THING = (long) BOOLEAN << KIND_SHIFT;
+  private static final long TRUE_THING = FALSE_THING | 1;
 
   private static final int ONE = 65536;
 
@@ -327,15 +329,15 @@ public final class PaintTongue {
   }
 
   private static long integer(int n) {
-    return thing(INTEGER, n);
+    return (long) INTEGER << KIND_SHIFT | (n & VALUE_BITS);
   }
 
   private static long fixed(long v) {
-    return thing(FIXED, (int) v);
+    return (long) FIXED << KIND_SHIFT | (v & VALUE_BITS);
   }
 
   private static long truth(boolean b) {
-    return thing(BOOLEAN, b ? 1 : 0);
+    return b ? TRUE_THING : FALSE_THING;
   }
 
   private static long literal(long o) {
@@ -479,6 +481,8 @@ public final class PaintTongue {
     private final byte[] pool = new byte[(MET_LIMIT + OWN_LIMIT) * LONGEST];
     private final int[] startOf = new int[MET_LIMIT + OWN_LIMIT + 1];
     private final short[] table = new short[TABLE];
+    // The table as it is while there are no other names.
+    private final short[] ownTable;
     private int count;
     private final int own;
 
@@ -498,6 +502,7 @@ public final class PaintTongue {
       addWords(FONT_WORDS, 2, word);
       addWords(OTHER_WORDS, 1, word);
       own = count;
+      ownTable = table.clone();
     }
 
     /** Every word, or every second one, becomes a name. */
@@ -521,14 +526,7 @@ public final class PaintTongue {
 
     void clear() {
       count = own;
-      Arrays.fill(table, (short) 0);
-      for (int id = 0; id < own; id++) {
-        int slot = slotOf(pool, startOf[id], startOf[id + 1] - startOf[id]);
-        for (int i = 0; i < TABLE && table[slot] != 0; i++) {
-          slot = (slot + 1) % TABLE;
-        }
-        table[slot] = (short) (id + 1);
-      }
+      System.arraycopy(ownTable, 0, table, 0, TABLE);
     }
 
     int met() {
@@ -537,7 +535,11 @@ public final class PaintTongue {
 
     /** The number of the name of these bytes, which may be a new one; NONE where no more may come. */
     int intern(byte[] source, int from, int length) {
-      int slot = slotOf(source, from, length);
+      int hash = length;
+      for (int i = 0; i < length; i++) {
+        hash = hash * 31 + source[from + i];
+      }
+      int slot = (hash ^ hash >>> 12) & TABLE - 1;
       for (int i = 0; i < TABLE && table[slot] != 0; i++) {
         int id = table[slot] - 1;
         int at = startOf[id];
@@ -560,20 +562,13 @@ public final class PaintTongue {
       return count++;
     }
 
-    private static int slotOf(byte[] source, int from, int length) {
-      int hash = length;
-      for (int i = 0; i < length; i++) {
-        hash = hash * 31 + source[from + i];
-      }
-      return (hash ^ hash >>> 12) & TABLE - 1;
-    }
-
     int lengthOfName(int id) {
       return id < 0 || id >= count ? 0 : startOf[id + 1] - startOf[id];
     }
 
     int byteAt(int id, int i) {
-      return i < 0 || i >= lengthOfName(id) ? NONE : pool[startOf[id] + i] & 0xFF;
+      boolean there = id >= 0 && id < count && i >= 0 && i < startOf[id + 1] - startOf[id];
+      return there ? pool[startOf[id] + i] & 0xFF : NONE;
     }
   }
 
@@ -656,20 +651,24 @@ public final class PaintTongue {
       }
     }
 
+    // These four are done in every step: they unpack by themselves.
+
     int cellPlace(long o) {
-      return cellsAt[bodyOf(o)] + placeOf(o);
+      return cellsAt[(int) (o >>> BODY_SHIFT) & BODY_BITS] + ((int) (o >>> PLACE_SHIFT) & PLACE_BITS);
     }
 
     int bytePlace(long o) {
-      return bytesAt[bodyOf(o)] + placeOf(o);
+      return bytesAt[(int) (o >>> BODY_SHIFT) & BODY_BITS] + ((int) (o >>> PLACE_SHIFT) & PLACE_BITS);
     }
 
     long cellOf(long row, int i) {
-      return cells[cellPlace(row) + i];
+      int at = cellsAt[(int) (row >>> BODY_SHIFT) & BODY_BITS];
+      return cells[at + ((int) (row >>> PLACE_SHIFT) & PLACE_BITS) + i];
     }
 
     int byteOf(long string, int i) {
-      return bytes[bytePlace(string) + i] & 0xFF;
+      int at = bytesAt[(int) (string >>> BODY_SHIFT) & BODY_BITS];
+      return bytes[at + ((int) (string >>> PLACE_SHIFT) & PLACE_BITS) + i] & 0xFF;
     }
 
     /** All of one row or string comes into another one from a place on; it is known to have room. */
@@ -831,8 +830,19 @@ public final class PaintTongue {
       piled = 0;
       int error = 0;
       for (int left = limit - at; left >= 0; left--) {
+        int first = at < limit ? source[at] : 0;
+        boolean twice = at + 1 < limit && source[at + 1] == first;
         token = NOTHING;
-        error = at < limit ? piece(source[at]) : SYNTAX;
+        switch (first) {
+          case '{': error = openProcedure(); break;
+          case '}': error = closeProcedure(); break;
+          case '(': error = readString(); break;
+          case '<': error = twice ? readSign(2) : readHex(); break;
+          case '>': error = twice ? readSign(2) : SYNTAX; break;
+          case '[': case ']': error = readSign(1); break;
+          case '/': error = readSlash(twice); break;
+          default: error = readWord(); break;
+        }
         if (error == 0 && depth > 0 && token != NOTHING) {
           error = addToPile();
         }
@@ -845,21 +855,6 @@ public final class PaintTongue {
         m.memory.dropTo(before);
       }
       return error;
-    }
-
-    private int piece(int first) {
-      boolean twice = at + 1 < limit && source[at + 1] == first;
-      switch (first) {
-        case '{': return openProcedure();
-        case '}': return closeProcedure();
-        case '(': return readString();
-        case '<': return twice ? readSign(2) : readHex();
-        case '>': return twice ? readSign(2) : SYNTAX;
-        case '[': case ']': return readSign(1);
-        case '/': return readSlash(twice);
-        case ')': return SYNTAX;
-        default: return readWord();
-      }
     }
 
     private int addToPile() {
@@ -1168,6 +1163,11 @@ public final class PaintTongue {
       value = 0;
     }
 
+    /** What pathforall's next turn is of. */
+    int kindAt() {
+      return kinds == null || at >= amount ? Drawing.CLOSE : kinds[at];
+    }
+
     boolean isSign() {
       return sort == SIGNS && (busy || op == OP_STRINGWIDTH);
     }
@@ -1387,10 +1387,9 @@ public final class PaintTongue {
     Page(int pageWidth, int pageHeight) {
       width = pageWidth;
       height = pageHeight;
-      for (int y = 0; y < height; y++) {
-        for (int x = 0; x < width; x++) {
-          all[y * WORDS + (x >> 5)] |= 1 << 31 - (x & 31);
-        }
+      for (int i = 0; i < height * WORDS; i++) {
+        int left = width - i % WORDS * 32;
+        all[i] = left >= 32 ? -1 : left <= 0 ? 0 : -1 << 32 - left;
       }
     }
 
@@ -1479,7 +1478,7 @@ public final class PaintTongue {
       int moved = 0;
       int at = 0;
       for (int i = 0; i < flatParts; i++) {
-        if (flatKinds[i] == Drawing.LINE) {
+        if (flatKinds[i] == Drawing.LINE && at > 0) {
           addEdge(flatX[at - 1], flatY[at - 1], flatX[at], flatY[at]);
         } else if (flatKinds[i] == Drawing.MOVE) {
           addBack(at - 1, moved);
@@ -1932,13 +1931,14 @@ public final class PaintTongue {
       return kindOf(sought) == NAME ? systemValue(valueOf(sought)) : NOTHING;
     }
 
+    /** Each operator is under its name, which has its number. */
     private static long systemValue(int name) {
       if (name < OPERATORS) {
-        return thing(OPERATOR, name) | EXECUTABLE;
+        return (long) OPERATOR << KIND_SHIFT | EXECUTABLE | name;
       }
       switch (name) {
-        case WORD_TRUE: return truth(true);
-        case WORD_FALSE: return truth(false);
+        case WORD_TRUE: return TRUE_THING;
+        case WORD_FALSE: return FALSE_THING;
         case WORD_NULL: return NULL_THING;
         default: return NOTHING;
       }
@@ -3761,8 +3761,9 @@ public final class PaintTongue {
     private final DataOps data;
     private final PaintOps paint;
     private final byte[] text = new byte[TAPE_LIMIT];
-    // What each operator takes.
+    // What each operator takes, and in which of the texts of operators it stands.
     private final byte[] patterns = new byte[OPERATORS * PATTERN];
+    private final byte[] groups = new byte[OPERATORS];
     // Of one step: the object that is to be executed next; what exec took, which goes back if exec fails; the names
     // that were looked up; and what an error would blame.
     private long taken;
@@ -3777,32 +3778,33 @@ public final class PaintTongue {
       reader = aReader;
       data = new DataOps(machine, aReader);
       paint = new PaintOps(machine);
-      int op = addPatterns(STACK_WORDS, 0);
-      op = addPatterns(NUMBER_WORDS, op);
-      op = addPatterns(OBJECT_WORDS, op);
-      op = addPatterns(ROW_WORDS, op);
-      op = addPatterns(DICT_WORDS, op);
-      op = addPatterns(TELL_WORDS, op);
-      op = addPatterns(CONTROL_WORDS, op);
-      op = addPatterns(STATE_WORDS, op);
-      op = addPatterns(MATRIX_WORDS, op);
-      op = addPatterns(PATH_WORDS, op);
-      op = addPatterns(INK_WORDS, op);
-      addPatterns(FONT_WORDS, op);
+      int op = addGroup(STACK_WORDS, 0, 0);
+      op = addGroup(NUMBER_WORDS, 1, op);
+      op = addGroup(OBJECT_WORDS, 2, op);
+      op = addGroup(ROW_WORDS, 3, op);
+      op = addGroup(DICT_WORDS, 4, op);
+      op = addGroup(TELL_WORDS, 5, op);
+      op = addGroup(CONTROL_WORDS, 6, op);
+      op = addGroup(STATE_WORDS, 7, op);
+      op = addGroup(MATRIX_WORDS, 8, op);
+      op = addGroup(PATH_WORDS, 9, op);
+      op = addGroup(INK_WORDS, 10, op);
+      addGroup(FONT_WORDS, 11, op);
     }
 
-    /** Every second word is what the operator ahead of it takes. */
-    private int addPatterns(String words, int firstOp) {
+    /** Every second word is what the operator ahead of it takes; answers the number of the next operator. */
+    private int addGroup(String words, int group, int firstOp) {
       int op = firstOp;
       int word = 0;
       int length = 0;
-      for (int i = 0; i < words.length(); i++) {
+      for (int i = 0; i < words.length() && op < OPERATORS; i++) {
         char c = words.charAt(i);
+        groups[op] = (byte) group;
         if (c == ' ') {
           op += word % 2;
           word++;
           length = 0;
-        } else if (word % 2 == 1 && c != '-' && op < OPERATORS && length < PATTERN) {
+        } else if (word % 2 == 1 && c != '-' && length < PATTERN) {
           patterns[op * PATTERN + length++] = (byte) c;
         }
       }
@@ -3836,7 +3838,31 @@ public final class PaintTongue {
       for (int i = 0; i < FAR && error == 0 && taken != NOTHING; i++) {
         long o = taken;
         taken = NOTHING;
-        error = kindOf(o) == OPERATOR && isExecutable(o) ? perform(valueOf(o)) : execute(o);
+        if (kindOf(o) != OPERATOR || !isExecutable(o)) {
+          error = execute(o);
+          continue;
+        }
+        int op = valueOf(o);
+        blame = op;
+        held = NOTHING;
+        error = checkOperands(op);
+        if (error != 0) {
+          break;
+        }
+        switch (groups[op]) {
+          case 0: error = data.stackOps(op); break;
+          case 1: error = data.numberOps(op); break;
+          case 2: error = data.objectOps(op); break;
+          case 3: error = data.rowOps(op); break;
+          case 4: error = data.dictOps(op); break;
+          case 5: error = data.tellOps(op); break;
+          case 6: error = controlOps(op); break;
+          case 7: error = paint.stateOps(op); break;
+          case 8: error = paint.matrixOps(op); break;
+          case 9: error = paint.pathOps(op); break;
+          case 10: error = paint.inkOps(op); break;
+          default: error = paint.fontOps(op); break;
+        }
       }
       if (error != 0) {
         fail(error);
@@ -3928,34 +3954,6 @@ public final class PaintTongue {
     }
 
     // ---- Operators
-
-    private int perform(int op) {
-      blame = op;
-      held = NOTHING;
-      int error = checkOperands(op);
-      if (error != 0) {
-        return error;
-      }
-      if (op < OP_EQ) {
-        return op < OP_ADD ? data.stackOps(op) : data.numberOps(op);
-      }
-      if (op < OP_DEF) {
-        return op < OP_ARRAY ? data.objectOps(op) : data.rowOps(op);
-      }
-      if (op < OP_EXEC) {
-        return op < OP_TELL ? data.dictOps(op) : data.tellOps(op);
-      }
-      if (op < OP_GSAVE) {
-        return controlOps(op);
-      }
-      if (op < OP_NEWPATH) {
-        return op < OP_MATRIX ? paint.stateOps(op) : paint.matrixOps(op);
-      }
-      if (op < OP_DEFINEFONT) {
-        return op < OP_FILL ? paint.pathOps(op) : paint.inkOps(op);
-      }
-      return paint.fontOps(op);
-    }
 
     /** UNDERFLOW and TYPE, as far as the pattern tells them. */
     private int checkOperands(int op) {
@@ -4263,7 +4261,7 @@ public final class PaintTongue {
       switch (f.sort) {
         case Frame.FOR: return 1;
         case Frame.FORALL: return kindOf(f.source) == DICT ? 2 : 1;
-        case Frame.PATHFORALL: return 2 * Drawing.pointsOf(f.kinds[f.at]);
+        case Frame.PATHFORALL: return 2 * Drawing.pointsOf(f.kindAt());
         default: return 0;
       }
     }
@@ -4280,12 +4278,13 @@ public final class PaintTongue {
 
     /** Answers which of pathforall's procedures is due. */
     private int givePlaces(Frame f) {
-      int kind = f.kinds[f.at++];
-      for (int i = 0; i < Drawing.pointsOf(kind); i++) {
+      int kind = f.kindAt();
+      for (int i = 0; i < Drawing.pointsOf(kind) && f.places != null; i++) {
         int at = 2 * (int) f.value++;
         m.push(fixed(f.places[at]));
         m.push(fixed(f.places[at + 1]));
       }
+      f.at++;
       return kind;
     }
 
