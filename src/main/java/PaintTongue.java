@@ -369,7 +369,7 @@ public final class PaintTongue {
 
   /** Arithmetic of FIXED, which are worked in longs: what is beyond an int is for the caller to refuse. */
   private static final class Fixed {
-    static final long OUT = Long.MIN_VALUE;
+    static final long OUT = 1L << 63;
     static final long MATRIX_BOUND = 64L * ONE;
 
     static boolean fits(long v) {
@@ -1111,17 +1111,17 @@ public final class PaintTongue {
 
     int sort;
     int op;
-    // What is gone through: a procedure, a string, forall's collection, show's string; and how far.
+    // What is gone through (a procedure, a string, forall's collection, show's string), how far, and how much there is:
+    // the text's bytes, the path's parts, the bytes that an image wants; of a sign its byte, of for the values' kind.
     long source;
     int at;
     int amount;
     final long[] procedures = new long[4];
-    // for: the next value, the step, the end; repeat: the turns that are left; pathforall: the places that were
-    // given; ashow and widthshow: the byte, and the distance behind it.
+    // for: the next value, the step, the end; repeat: the turns that are left; pathforall: the places that were given;
+    // ashow and widthshow: the byte, and the distance behind it.
     long value;
     long by;
     long to;
-    boolean ofFixed;
     // pathforall's path, made when it is first needed.
     byte[] kinds;
     int[] places;
@@ -1379,8 +1379,7 @@ public final class PaintTongue {
     // Of a stroke: the edges of one part of the path, and the corners of one figure.
     private final long[][] edges = new long[6][FLAT_POINTS + 1];
     private int edgeCount;
-    private final long[] cornerX = new long[CIRCLE.length];
-    private final long[] cornerY = new long[CIRCLE.length];
+    private final long[] cornerPlaces = new long[2 * CIRCLE.length];
     private int corners;
     private long half;
 
@@ -1689,9 +1688,9 @@ public final class PaintTongue {
     }
 
     private void corner(long x, long y) {
-      if (corners < cornerX.length) {
-        cornerX[corners] = x;
-        cornerY[corners] = y;
+      if (corners < CIRCLE.length) {
+        cornerPlaces[2 * corners] = x;
+        cornerPlaces[2 * corners + 1] = y;
         corners++;
       }
     }
@@ -1758,7 +1757,7 @@ public final class PaintTongue {
     private void figure() {
       for (int i = 0; i < corners; i++) {
         int next = i + 1 < corners ? i + 1 : 0;
-        addEdge(cornerX[i], cornerY[i], cornerX[next], cornerY[next]);
+        addEdge(cornerPlaces[2 * i], cornerPlaces[2 * i + 1], cornerPlaces[2 * next], cornerPlaces[2 * next + 1]);
       }
       sweep(false);
     }
@@ -1766,7 +1765,7 @@ public final class PaintTongue {
 
   /** What all operators work on: the stacks, the graphics, what was printed, and the latest error. */
   private static final class Machine {
-    static final int PRINTED_LIMIT = 4000;
+    static final int PRINTED_LIMIT = 4000, COUNTED_LIMIT = 2147483647;
     static final int OPERANDS_LIMIT = 200, OPEN_LIMIT = 20, UNDER_LIMIT = 100, KEPT_LIMIT = 20;
     // The system's dict stands at the bottom of those that are open; it has no body.
     private static final int SYSTEM = -1;
@@ -2019,7 +2018,7 @@ public final class PaintTongue {
       for (int i = 0; i < length && printedCount + i < PRINTED_LIMIT; i++) {
         printed[printedCount + i] = bytes[from + i];
       }
-      printedCount = printedCount > Integer.MAX_VALUE - length ? Integer.MAX_VALUE : printedCount + length;
+      printedCount = printedCount > COUNTED_LIMIT - length ? COUNTED_LIMIT : printedCount + length;
     }
   }
 
@@ -4088,7 +4087,7 @@ public final class PaintTongue {
       if (f == null) {
         return EXECFULL;
       }
-      f.ofFixed = !whole;
+      f.amount = whole ? INTEGER : FIXED;
       f.value = whole ? valueOf(m.peek(3)) : Fixed.of(m.peek(3));
       f.by = whole ? valueOf(m.peek(2)) : Fixed.of(m.peek(2));
       f.to = whole ? valueOf(m.peek(1)) : Fixed.of(m.peek(1));
@@ -4246,7 +4245,7 @@ public final class PaintTongue {
       switch (f.sort) {
         case Frame.REPEAT: f.value--; break;
         case Frame.FOR:
-          m.push(thing(f.ofFixed ? FIXED : INTEGER, (int) f.value));
+          m.push(thing(f.amount, (int) f.value));
           f.value += f.by;
           break;
         case Frame.FORALL: giveElement(f); break;
