@@ -3848,6 +3848,7 @@ public final class PaintTongue {
         if (error != 0) {
           break;
         }
+        // The groups stand in the order of the texts of operators; one more call in between would be one too deep.
         switch (groups[op]) {
           case 0: error = data.stackOps(op); break;
           case 1: error = data.numberOps(op); break;
