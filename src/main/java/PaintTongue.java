@@ -461,6 +461,13 @@ public final class PaintTongue {
       return true;
     }
 
+    /** The place that a matrix makes of x, y, or the distance, into spot; false where it is beyond the bounds. */
+    static boolean along(int[] m, long x, long y, boolean place, long[] spot) {
+      spot[0] = sum(m[0], x, m[2], y, place ? m[4] : 0);
+      spot[1] = sum(m[1], x, m[3], y, place ? m[5] : 0);
+      return fits(spot[0]) && fits(spot[1]);
+    }
+
     /** The way back of x, y (a place's less tx, ty), into spot: 0, RESULT or RANGE. */
     static int back(int[] m, long x, long y, long[] spot) {
       long det = det(m);
@@ -3176,9 +3183,7 @@ public final class PaintTongue {
       if (op == OP_ITRANSFORM || op == OP_IDTRANSFORM) {
         error = Fixed.back(matrix, x - tx, y - ty, spot);
       } else {
-        spot[0] = Fixed.sum(matrix[0], x, matrix[2], y, tx);
-        spot[1] = Fixed.sum(matrix[1], x, matrix[3], y, ty);
-        error = Fixed.fits(spot[0]) && Fixed.fits(spot[1]) ? 0 : RANGE;
+        error = Fixed.along(matrix, x, y, moves, spot) ? 0 : RANGE;
       }
       return error != 0 ? error : m.answerPair(2 + k, spot[0], spot[1]);
     }
@@ -3688,7 +3693,8 @@ public final class PaintTongue {
     /** Signs are the last thing under way: NONE if they stay for a turn, 0 if they are gone, or an error. */
     int settleSigns(Frame f) {
       if (f.busy) {
-        int error = leaveSign(f);
+        leaveSign(f);
+        int error = moveBehind(f);
         if (error != 0) {
           return error;
         }
@@ -3706,28 +3712,33 @@ public final class PaintTongue {
       return 0;
     }
 
-    /** A sign is through: the graphics are as ahead of it, but for the current point, which moves. */
-    private int leaveSign(Frame f) {
+    /** A sign is through: the graphics are as ahead of it. */
+    private void leaveSign(Frame f) {
       m.backTo(f.signLevel());
       memory.live = f.live;
       f.busy = false;
       f.between = false;
       f.at++;
-      int[] font = f.matrix;
-      long wideX = Fixed.sum(font[0], f.widths[0], font[2], f.widths[1], 0);
-      long wideY = Fixed.sum(font[1], f.widths[0], font[3], f.widths[1], 0);
-      if (!Fixed.fits(wideX) || !Fixed.fits(wideY)) {
+    }
+
+    /** The current point moves behind a sign; each distance on the way must be within the bounds by itself. */
+    private int moveBehind(Frame f) {
+      if (!Fixed.along(f.matrix, f.widths[0], f.widths[1], false, spot)) {
         return RANGE;
       }
-      f.widths[2] += wideX;
-      f.widths[3] += wideY;
-      boolean spaced = f.op == OP_ASHOW || (f.op == OP_WIDTHSHOW && f.value == f.amount);
-      int[] matrix = now.matrix;
-      long x = Fixed.sum(matrix[0], wideX, matrix[2], wideY, now.lastX);
-      long y = Fixed.sum(matrix[1], wideX, matrix[3], wideY, now.lastY);
-      if (spaced) {
-        x = Fixed.sum(matrix[0], f.by, matrix[2], f.to, x);
-        y = Fixed.sum(matrix[1], f.by, matrix[3], f.to, y);
+      f.widths[2] += spot[0];
+      f.widths[3] += spot[1];
+      if (!Fixed.along(now.matrix, spot[0], spot[1], false, spot)) {
+        return RANGE;
+      }
+      long x = now.lastX + spot[0];
+      long y = now.lastY + spot[1];
+      if (f.op == OP_ASHOW || (f.op == OP_WIDTHSHOW && f.value == f.amount)) {
+        if (!Fixed.along(now.matrix, f.by, f.to, false, spot)) {
+          return RANGE;
+        }
+        x += spot[0];
+        y += spot[1];
       }
       if (!Drawing.isPlace(x) || !Drawing.isPlace(y)) {
         return RANGE;

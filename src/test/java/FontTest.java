@@ -12,6 +12,7 @@ public final class FontTest {
     showing(b);
     codes(b);
     spaced(b);
+    distances(b);
     between(b);
     widths(b);
     keeping(b);
@@ -116,6 +117,26 @@ public final class FontTest {
     b.due("widthshow", point(narrow + "1 .5 98 (abcb) widthshow"), "10.0 1.0");
     b.due("widthshow of no byte", point(narrow + "1 .5 354 (abcb) widthshow"), "8.0 0.0");
     b.due("under a matrix", point(narrow.replace("0 0 moveto", "2 3 scale 0 0 moveto") + "1 1 (a) ashow"), "6.0 3.0");
+  }
+
+  /** Each DISTANCE is a FIXED by itself, also where their sum is a place. */
+  private static void distances(Bench b) {
+    String zoomed = "64 1 scale 0 0 moveto ";
+    String back = font("pop pop -500 0 setcharwidth") + zoomed;
+    b.fails(font("pop pop 600 0 setcharwidth") + zoomed + "-590 0 (a) ashow", 4, "ashow", "");
+    b.fails(back + "515 0 97 (a) widthshow", 4, "widthshow", "");
+    b.fails(back + "515 0 (a) ashow", 4, "ashow", "");
+    b.due("both are FIXED", point(back + "510 0 (a) ashow"), "640.0 0.0");
+    b.due("behind another byte it isn't made", point(font("pop pop 1 0 setcharwidth") + zoomed + "515 0 98 (a) widthshow"),
+        "64.0 0.0");
+    String upwards = "1 64 scale 0 0 moveto ";
+    b.fails(font("pop pop 0 600 setcharwidth") + upwards + "0 -590 (a) ashow", 4, "ashow", "");
+    b.fails(font("pop pop 0 -500 setcharwidth") + upwards + "0 515 97 (a) widthshow", 4, "widthshow", "");
+    b.due("the least FIXED is one", point(font("pop pop -512 0 setcharwidth") + zoomed + "511 0 (a) ashow"), "-64.0 0.0");
+    b.fails(font("pop pop 512 0 setcharwidth") + zoomed + "-511 0 (a) ashow", 4, "ashow", "");
+    String wide = "/F << /FontMatrix [64 0 0 1 0 0] /BuildChar {pop pop 600 0 setcharwidth} >> definefont setfont ";
+    b.fails(wide + "0 1 scale 0 0 moveto (a) show", 4, "show", "");
+    b.fails(wide + "0 1 scale (a) stringwidth", 4, "stringwidth", "");
   }
 
   private static String point(String text) {
