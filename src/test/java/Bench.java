@@ -1,5 +1,10 @@
 /** What the tests share: feeding texts, running them, and telling what is not as due. */
 final class Bench {
+  // The errors' numbers.
+  static final int UNDERFLOW = 1, OVERFLOW = 2, TYPE = 3, RANGE = 4, UNDEFINED = 5, RESULT = 6, DICTFULL = 7,
+      DICTSTACKFULL = 8, DICTSTACKEMPTY = 9, EXECFULL = 10, EXIT = 11, RESTORE = 12, FONT = 13, LIMIT = 14, POINT = 15,
+      SYNTAX = 16, NOMARK = 17, VM = 18;
+
   private final String test;
   private int wrong;
   private int checked;
@@ -114,6 +119,36 @@ final class Bench {
     due("error of " + text, x.look(10), error);
     due("blamed by " + text, blamed(x), blame);
     due("left by " + text, operands(x), left);
+  }
+
+  /** A text runs through and leaves these operands. */
+  void gives(String text, String want) {
+    PaintTongue x = ran(text);
+    due("error of " + text, x.look(10), 0);
+    due(text, operands(x), want);
+  }
+
+  /** A text runs through (0), or fails with that error, whatever it leaves. */
+  void errs(String text, int error) {
+    errs(ran(text), text, error);
+  }
+
+  /** What stands of a text that was run. */
+  void errs(PaintTongue x, String text, int error) {
+    due("run of " + text, x.run(0), error == 0 ? 0 : 2);
+    due("error of " + text, x.look(10), error);
+  }
+
+  /** Both sides of a bound: with the first in the place of ? a text runs through, with the second it fails. */
+  void bound(String text, String within, String beyond, int error) {
+    errs(text.replace("?", within), 0);
+    errs(text.replace("?", beyond), error);
+  }
+
+  /** Both sides of a least and of a greatest number, which stand in the place of ? with their next ones. */
+  void bounds(String text, int least, int greatest, int error) {
+    bound(text, "" + least, "" + (least - 1L), error);
+    bound(text, "" + greatest, "" + (greatest + 1L), error);
   }
 
   void close() {

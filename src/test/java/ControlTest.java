@@ -27,17 +27,17 @@ public final class ControlTest {
   }
 
   private static void executing(Bench b) {
-    gives(b, "{1 2 add} exec", "0:3");
-    gives(b, "1 2 /add load exec", "0:3");
-    gives(b, "1 2 /add cvx exec", "0:3");
-    gives(b, "(1 2 add) cvx exec (1 2)", "0:3 8:3");
-    gives(b, "5 exec [1] exec null exec (s) exec /a exec", "0:5 9:1 3:0 8:1 5:1");
-    gives(b, "/p {1} def p /p load xcheck", "0:1 2:1");
-    gives(b, "/s (7 8) cvx def s", "0:7 0:8");
-    gives(b, "/a /b cvx def /b 3 def a", "0:3");
-    gives(b, "{{1}} exec", "9:1x");
-    gives(b, "true {1} if false {2} if true {3} {4} ifelse false {5} {6} ifelse", "0:1 0:3 0:6");
-    gives(b, "1 2 /add load /exec load exec", "0:3");
+    b.gives("{1 2 add} exec", "0:3");
+    b.gives("1 2 /add load exec", "0:3");
+    b.gives("1 2 /add cvx exec", "0:3");
+    b.gives("(1 2 add) cvx exec (1 2)", "0:3 8:3");
+    b.gives("5 exec [1] exec null exec (s) exec /a exec", "0:5 9:1 3:0 8:1 5:1");
+    b.gives("/p {1} def p /p load xcheck", "0:1 2:1");
+    b.gives("/s (7 8) cvx def s", "0:7 0:8");
+    b.gives("/a /b cvx def /b 3 def a", "0:3");
+    b.gives("{{1}} exec", "9:1x");
+    b.gives("true {1} if false {2} if true {3} {4} ifelse false {5} {6} ifelse", "0:1 0:3 0:6");
+    b.gives("1 2 /add load /exec load exec", "0:3");
     b.fails("1 {2} if", 3, "if", "0:1 9:1x");
     b.fails("true [2] if", 3, "if", "2:1 9:1");
     b.fails("true {1} ifelse", 1, "ifelse", "2:1 9:1x");
@@ -49,7 +49,7 @@ public final class ControlTest {
     for (int i = 2; i <= 51; i++) {
       chain.append("/n" + i + " /n" + (i - 1) + " cvx def ");
     }
-    gives(b, chain + "n50", "0:7");
+    b.gives(chain + "n50", "0:7");
     b.fails(chain + "n51", 14, "n51", "");
   }
 
@@ -75,11 +75,11 @@ public final class ControlTest {
   }
 
   private static void leaving(Bench b) {
-    gives(b, "{1 exit 2} loop 3", "0:1 0:3");
-    gives(b, "1 1 9 {dup 3 eq {exit} if} for", "0:1 0:2 0:3");
-    gives(b, "5 {1 exit} repeat [1 2] {exit} forall", "0:1 0:1");
-    gives(b, "{{1 exit} loop 2 exit} loop", "0:1 0:2");
-    gives(b, "{(exit 5) cvx exec} loop", "");
+    b.gives("{1 exit 2} loop 3", "0:1 0:3");
+    b.gives("1 1 9 {dup 3 eq {exit} if} for", "0:1 0:2 0:3");
+    b.gives("5 {1 exit} repeat [1 2] {exit} forall", "0:1 0:1");
+    b.gives("{{1 exit} loop 2 exit} loop", "0:1 0:2");
+    b.gives("{(exit 5) cvx exec} loop", "");
     b.fails("exit", 11, "exit", "");
     b.fails("{exit} exec", 11, "exit", "");
     PaintTongue x = Bench.ran("{{exit} stopped exit} loop");
@@ -88,11 +88,11 @@ public final class ControlTest {
   }
 
   private static void stopping(Bench b) {
-    gives(b, "{1 2} stopped", "0:1 0:2 2:0");
-    gives(b, "{1 stop 2} stopped", "0:1 2:1");
-    gives(b, "{{stop} stopped} stopped", "2:1 2:0");
-    gives(b, "5 stopped", "0:5 2:0");
-    gives(b, "{} stopped () cvx stopped", "2:0 2:0");
+    b.gives("{1 2} stopped", "0:1 0:2 2:0");
+    b.gives("{1 stop 2} stopped", "0:1 2:1");
+    b.gives("{{stop} stopped} stopped", "2:1 2:0");
+    b.gives("5 stopped", "0:5 2:0");
+    b.gives("{} stopped () cvx stopped", "2:0 2:0");
     PaintTongue x = Bench.ran("{1 0 div 5} stopped");
     b.due("the operands stay", Bench.operands(x), "0:1 0:0 2:1");
     b.due("the error", x.look(10), 6);
@@ -126,7 +126,7 @@ public final class ControlTest {
     b.due("the first one too", x.look(2), 1);
     x.run(1);
     b.due("and the text", x.look(2), 0);
-    gives(b, "/r {dup 0 gt {1 sub r} if} def 150 r", "0:0");
+    b.gives("/r {dup 0 gt {1 sub r} if} def 150 r", "0:0");
     x = new PaintTongue(8, 8);
     Bench.tape(x, "{1} stopped {2} 3 {4} repeat");
     x.start();
@@ -224,7 +224,7 @@ public final class ControlTest {
   }
 
   private static void room(Bench b) {
-    gives(b, "vmstatus (abcd) pop vmstatus save vmstatus", "0:0 0:0 0:0 0:2 7:0 0:1 0:2");
+    b.gives("vmstatus (abcd) pop vmstatus save vmstatus", "0:0 0:0 0:0 0:2 7:0 0:1 0:2");
     PaintTongue x = Bench.ran("11 {1000 array pop} repeat 0 979 array pop pop");
     b.due("11 rows, a procedure and one more", x.look(4), 11011 + 4 + 980);
     Bench.more(x, "15 string");

@@ -24,20 +24,20 @@ public final class DataTest {
   }
 
   private static void stack(Bench b) {
-    gives(b, "1 2 pop", "0:1");
-    gives(b, "1 2 exch", "0:2 0:1");
-    gives(b, "1 dup", "0:1 0:1");
-    gives(b, "1 2 3 2 copy", "0:1 0:2 0:3 0:2 0:3");
-    gives(b, "1 0 copy", "0:1");
-    gives(b, "7 8 9 2 index", "0:7 0:8 0:9 0:7");
-    gives(b, "1 2 3 4 3 1 roll", "0:1 0:4 0:2 0:3");
-    gives(b, "1 2 3 4 3 -1 roll", "0:1 0:3 0:4 0:2");
-    gives(b, "1 2 3 3 -2147483648 roll", "0:3 0:1 0:2");
-    gives(b, "1 0 5 roll", "0:1");
-    gives(b, "1 2 clear", "");
-    gives(b, "5 5 count", "0:5 0:5 0:2");
-    gives(b, "1 mark [ << 2 3 counttomark", "0:1 4:0 4:0 4:0 0:2 0:3 0:2");
-    gives(b, "1 mark 2 3 cleartomark", "0:1");
+    b.gives("1 2 pop", "0:1");
+    b.gives("1 2 exch", "0:2 0:1");
+    b.gives("1 dup", "0:1 0:1");
+    b.gives("1 2 3 2 copy", "0:1 0:2 0:3 0:2 0:3");
+    b.gives("1 0 copy", "0:1");
+    b.gives("7 8 9 2 index", "0:7 0:8 0:9 0:7");
+    b.gives("1 2 3 4 3 1 roll", "0:1 0:4 0:2 0:3");
+    b.gives("1 2 3 4 3 -1 roll", "0:1 0:3 0:4 0:2");
+    b.gives("1 2 3 3 -2147483648 roll", "0:3 0:1 0:2");
+    b.gives("1 0 5 roll", "0:1");
+    b.gives("1 2 clear", "");
+    b.gives("5 5 count", "0:5 0:5 0:2");
+    b.gives("1 mark [ << 2 3 counttomark", "0:1 4:0 4:0 4:0 0:2 0:3 0:2");
+    b.gives("1 mark 2 3 cleartomark", "0:1");
     b.fails("pop", 1, "pop", "");
     b.fails("1 exch", 1, "exch", "0:1");
     b.fails("1 -1 copy", 4, "copy", "0:1 0:-1");
@@ -56,10 +56,10 @@ public final class DataTest {
   }
 
   private static void whole(Bench b) {
-    gives(b, "2 3 add 2 3 sub 2 3 mul", "0:5 0:-1 0:6");
-    gives(b, "7 2 idiv -7 2 idiv 7 -2 idiv 7 2 mod -7 2 mod 7 -2 mod", "0:3 0:-3 0:-3 0:1 0:-1 0:1");
-    gives(b, "-2147483648 -1 mod", "0:0");
-    gives(b, "5 neg -5 abs -5 ceiling -5 floor -5 round -5 truncate", "0:-5 0:5 0:-5 0:-5 0:-5 0:-5");
+    b.gives("2 3 add 2 3 sub 2 3 mul", "0:5 0:-1 0:6");
+    b.gives("7 2 idiv -7 2 idiv 7 -2 idiv 7 2 mod -7 2 mod 7 -2 mod", "0:3 0:-3 0:-3 0:1 0:-1 0:1");
+    b.gives("-2147483648 -1 mod", "0:0");
+    b.gives("5 neg -5 abs -5 ceiling -5 floor -5 round -5 truncate", "0:-5 0:5 0:-5 0:-5 0:-5 0:-5");
     b.fails("2147483647 1 add", 4, "add", "0:2147483647 0:1");
     b.fails("-2147483648 1 sub", 4, "sub", "0:-2147483648 0:1");
     b.fails("65536 32768 mul", 4, "mul", "0:65536 0:32768");
@@ -74,13 +74,13 @@ public final class DataTest {
   }
 
   private static void fixed(Bench b) {
-    gives(b, "1 .5 add 1 .5 sub 3 .5 mul", "1:98304 1:32768 1:98304");
-    gives(b, "1 3 div -1 3 div 1 -3 div 6 2 div", "1:21845 1:-21846 1:-21846 1:196608");
-    gives(b, "-0.00001 0.5 mul", "1:-1");
-    gives(b, "1.5 neg -1.5 abs", "1:-98304 1:98304");
-    gives(b, "1.5 ceiling -1.5 ceiling 1.5 floor -1.5 floor", "1:131072 1:-65536 1:65536 1:-131072");
-    gives(b, "1.5 round -1.5 round 2.4 round 1.5 truncate -1.5 truncate", "1:131072 1:-65536 1:131072 1:65536 1:-65536");
-    gives(b, "2 sqrt .5 sqrt 0 sqrt 16.0 sqrt", "1:92681 1:46340 1:0 1:262144");
+    b.gives("1 .5 add 1 .5 sub 3 .5 mul", "1:98304 1:32768 1:98304");
+    b.gives("1 3 div -1 3 div 1 -3 div 6 2 div", "1:21845 1:-21846 1:-21846 1:196608");
+    b.gives("-0.00001 0.5 mul", "1:-1");
+    b.gives("1.5 neg -1.5 abs", "1:-98304 1:98304");
+    b.gives("1.5 ceiling -1.5 ceiling 1.5 floor -1.5 floor", "1:131072 1:-65536 1:65536 1:-131072");
+    b.gives("1.5 round -1.5 round 2.4 round 1.5 truncate -1.5 truncate", "1:131072 1:-65536 1:131072 1:65536 1:-65536");
+    b.gives("2 sqrt .5 sqrt 0 sqrt 16.0 sqrt", "1:92681 1:46340 1:0 1:262144");
     b.fails("1 0 div", 6, "div", "0:1 0:0");
     b.fails("1 0.0 div", 6, "div", "0:1 1:0");
     b.fails("32767 .5 div", 4, "div", "0:32767 1:32768");
@@ -93,10 +93,10 @@ public final class DataTest {
   }
 
   private static void bits(Bench b) {
-    gives(b, "5 2 bitshift -1 -28 bitshift 1 31 bitshift 1 32 bitshift -1 -32 bitshift -1 -2147483648 bitshift",
+    b.gives("5 2 bitshift -1 -28 bitshift 1 31 bitshift 1 32 bitshift -1 -32 bitshift -1 -2147483648 bitshift",
         "0:20 0:15 0:-2147483648 0:0 0:0 0:0");
-    gives(b, "12 10 and 12 10 or 12 10 xor 0 not", "0:8 0:14 0:6 0:-1");
-    gives(b, "true false and true false or true true xor true not", "2:0 2:1 2:0 2:0");
+    b.gives("12 10 and 12 10 or 12 10 xor 0 not", "0:8 0:14 0:6 0:-1");
+    b.gives("true false and true false or true true xor true not", "2:0 2:1 2:0 2:0");
     b.fails("1 true and", 3, "and", "0:1 2:1");
     b.fails("1.0 1.0 or", 3, "or", "1:65536 1:65536");
     b.fails("1.0 not", 3, "not", "1:65536");
@@ -104,8 +104,8 @@ public final class DataTest {
   }
 
   private static void conversions(Bench b) {
-    gives(b, "5 cvi 1.9 cvi -1.9 cvi (12) cvi ( \n-3.7 ) cvi (16#1F) cvi", "0:5 0:1 0:-1 0:12 0:-3 0:31");
-    gives(b, "5 cvr 1.5 cvr (12) cvr (.25) cvr", "1:327680 1:98304 1:786432 1:16384");
+    b.gives("5 cvi 1.9 cvi -1.9 cvi (12) cvi ( \n-3.7 ) cvi (16#1F) cvi", "0:5 0:1 0:-1 0:12 0:-3 0:31");
+    b.gives("5 cvr 1.5 cvr (12) cvr (.25) cvr", "1:327680 1:98304 1:786432 1:16384");
     b.fails("(1 2) cvi", 3, "cvi", "8:3");
     b.fails("(a) cvi", 3, "cvi", "8:1");
     b.fails("() cvr", 3, "cvr", "8:0");
@@ -113,39 +113,39 @@ public final class DataTest {
     b.fails("(99999999999) cvi", 4, "cvi", "8:11");
     b.fails("32768 cvr", 4, "cvr", "0:32768");
     b.fails("(32768) cvr", 4, "cvr", "8:5");
-    gives(b, "(32768) cvi", "0:32768");
+    b.gives("(32768) cvi", "0:32768");
   }
 
   private static void comparing(Bench b) {
-    gives(b, "1 1.0 eq 1 2 eq 40000 40000 eq 1 true eq", "2:1 2:0 2:1 2:0");
-    gives(b, "(ab) (ab) eq (ab) /ab eq /ab (ab) cvx eq /a /b eq", "2:1 2:1 2:1 2:0");
-    gives(b, "[1] [1] eq [1 2 3] dup eq [1] dup cvx eq", "2:0 2:1 2:1");
-    gives(b, "[1 2] dup 0 1 getinterval exch 0 1 getinterval eq [1 2] dup 0 1 getinterval eq", "2:1 2:0");
-    gives(b, "null null eq mark mark eq 1 dict dup eq 1 dict 1 dict eq", "2:1 2:1 2:1 2:0");
-    gives(b, "/add load /add load eq /add load /add eq", "2:1 2:0");
-    gives(b, "save dup eq", "2:1");
-    gives(b, "1 2 ne 1 1 ne", "2:1 2:0");
-    gives(b, "1 .5 gt 1 1 gt 1 1 ge 1 2 lt 2 1 le 40000 .5 gt", "2:1 2:0 2:1 2:1 2:0 2:1");
-    gives(b, "(ab) (abc) lt (b) (abc) gt () () ge (a) (\\377) le", "2:1 2:1 2:1 2:1");
+    b.gives("1 1.0 eq 1 2 eq 40000 40000 eq 1 true eq", "2:1 2:0 2:1 2:0");
+    b.gives("(ab) (ab) eq (ab) /ab eq /ab (ab) cvx eq /a /b eq", "2:1 2:1 2:1 2:0");
+    b.gives("[1] [1] eq [1 2 3] dup eq [1] dup cvx eq", "2:0 2:1 2:1");
+    b.gives("[1 2] dup 0 1 getinterval exch 0 1 getinterval eq [1 2] dup 0 1 getinterval eq", "2:1 2:0");
+    b.gives("null null eq mark mark eq 1 dict dup eq 1 dict 1 dict eq", "2:1 2:1 2:1 2:0");
+    b.gives("/add load /add load eq /add load /add eq", "2:1 2:0");
+    b.gives("save dup eq", "2:1");
+    b.gives("1 2 ne 1 1 ne", "2:1 2:0");
+    b.gives("1 .5 gt 1 1 gt 1 1 ge 1 2 lt 2 1 le 40000 .5 gt", "2:1 2:0 2:1 2:1 2:0 2:1");
+    b.gives("(ab) (abc) lt (b) (abc) gt () () ge (a) (\\377) le", "2:1 2:1 2:1 2:1");
     b.fails("1 (a) gt", 3, "gt", "0:1 8:1");
     b.fails("/a (a) lt", 3, "lt", "5:1 8:1");
   }
 
   private static void objects(Bench b) {
-    gives(b, "/a cvx (s) cvx [1] cvx /add load cvl", "5:1x 8:1x 9:1x 6:0");
-    gives(b, "1 cvx 1.5 cvx true cvx null cvx mark cvx 1 dict cvx {1} cvl", "0:1 1:98304 2:1 3:0 4:0 10:0 9:1");
-    gives(b, "{1} xcheck [1] xcheck /add load xcheck /a xcheck", "2:1 2:0 2:1 2:0");
+    b.gives("/a cvx (s) cvx [1] cvx /add load cvl", "5:1x 8:1x 9:1x 6:0");
+    b.gives("1 cvx 1.5 cvx true cvx null cvx mark cvx 1 dict cvx {1} cvl", "0:1 1:98304 2:1 3:0 4:0 10:0 9:1");
+    b.gives("{1} xcheck [1] xcheck /add load xcheck /a xcheck", "2:1 2:0 2:1 2:0");
     b.prints("1 type == 1.0 type == true type == null type == mark type == /a type == /add load type == save type == "
         + "(s) type == [] type == 1 dict type ==", "integertype\nrealtype\nbooleantype\nnulltype\nmarktype\nnametype\n"
         + "operatortype\nsavetype\nstringtype\narraytype\ndicttype\n");
-    gives(b, "1 type", "5:11x");
-    gives(b, "(ab) cvn (ab) cvx cvn", "5:2 5:2x");
+    b.gives("1 type", "5:11x");
+    b.gives("(ab) cvn (ab) cvx cvn", "5:2 5:2x");
     b.fails("() cvn", 4, "cvn", "8:0");
     b.fails("31 string cvn", 4, "cvn", "8:31");
     b.fails("/a cvn", 3, "cvn", "5:1");
     b.prints("-12 9 string cvs print 1.5 9 string cvs print true 9 string cvs print /ab 9 string cvs print",
         "-121.5trueab");
-    gives(b, "12 5 string cvs dup length exch pop 12 2 string cvs", "0:2 8:2");
+    b.gives("12 5 string cvs dup length exch pop 12 2 string cvs", "0:2 8:2");
     b.fails("123 2 string cvs", 4, "cvs", "0:123 8:2");
   }
 
@@ -167,16 +167,16 @@ public final class DataTest {
   }
 
   private static void rows(Bench b) {
-    gives(b, "3 array 0 array", "9:3 9:0");
+    b.gives("3 array 0 array", "9:3 9:0");
     b.prints("2 array == [1 2] length = [] length =", "[ -null- -null- ]\n2\n0\n");
     b.prints("[1 2 3] 1 get = [1 2 3] dup 1 9 put ==", "2\n[ 1 9 3 ]\n");
     b.prints("[1 2 3 4] 1 2 getinterval dup == dup 0 7 put pop [5 6] dup 1 [8] putinterval ==", "[ 2 3 ]\n[ 5 8 ]\n");
     b.prints("/r [1 2 3 4] def r 1 3 getinterval 0 9 put r == r 1 r 0 3 getinterval putinterval r ==",
         "[ 1 9 3 4 ]\n[ 1 1 9 3 ]\n");
-    gives(b, "[1 2] aload 3 array astore pop", "");
+    b.gives("[1 2] aload 3 array astore pop", "");
     b.prints("[1 2] aload == = = 1 2 2 array astore ==", "[ 1 2 ]\n2\n1\n[ 1 2 ]\n");
     b.prints("[1 2] 4 array copy == [] [1] copy ==", "[ 1 2 ]\n[ ]\n");
-    gives(b, "{1 2} 0 1 getinterval {1} 3 array cvx copy", "9:1x 9:1x");
+    b.gives("{1 2} 0 1 getinterval {1} 3 array cvx copy", "9:1x 9:1x");
     b.fails("-1 array", 4, "array", "0:-1");
     b.fails("1001 array", 4, "array", "0:1001");
     b.fails("501 string", 4, "string", "0:501");
@@ -189,14 +189,14 @@ public final class DataTest {
     b.fails("[1] 1 2 put", 4, "put", "9:1 0:1 0:2");
     b.fails("[1 2] 1 2 getinterval", 4, "getinterval", "9:2 0:1 0:2");
     b.fails("[1 2] 2147483647 2147483647 getinterval", 4, "getinterval", "9:2 0:2147483647 0:2147483647");
-    gives(b, "[1 2] 2 0 getinterval", "9:0");
+    b.gives("[1 2] 2 0 getinterval", "9:0");
     b.fails("[1] 0 (a) putinterval", 3, "putinterval", "9:1 0:0 8:1");
     b.fails("[1] 1 [2] putinterval", 4, "putinterval", "9:1 0:1 9:1");
     b.fails("1 2 array astore", 1, "astore", "0:1 9:2");
     b.fails("[1 2] [1] copy", 4, "copy", "9:2 9:1");
     b.fails("[1] (a) copy", 3, "copy", "9:1 8:1");
     b.fails("200 array aload", 2, "aload", "9:200");
-    gives(b, "199 array aload length", Bench.operands(Bench.ran("199 {null} repeat 199")));
+    b.gives("199 array aload length", Bench.operands(Bench.ran("199 {null} repeat 199")));
     b.due("room of rows", Bench.ran("10 array [1 2] 5 string 3 dict").look(4), 11 + 3 + 3 + 8);
   }
 
@@ -225,7 +225,7 @@ public final class DataTest {
   }
 
   private static void dicts(Bench b) {
-    gives(b, "3 dict dup length exch maxlength 5 dict", "0:0 0:3 10:0");
+    b.gives("3 dict dup length exch maxlength 5 dict", "0:0 0:3 10:0");
     b.prints("<< /a 1 /b 2 /a 3 >> dup length = dup maxlength = {= =} forall", "2\n3\n3\na\n2\nb\n");
     b.prints("<< /a 1 >> dup /a get = dup /b known = /a known =", "1\nfalse\ntrue\n");
     b.prints("/d 2 dict def d /a 1 put d /b 2 put d /a 3 put d /a undef d /zz undef d /c 4 put d {= =} forall",

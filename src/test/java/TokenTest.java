@@ -18,12 +18,12 @@ public final class TokenTest {
   }
 
   private static void numbers(Bench b) {
-    holds(b, "0 7 +7 -7 007 2147483647 -2147483648", "0:0 0:7 0:7 0:-7 0:7 0:2147483647 0:-2147483648");
-    holds(b, "1.5 .5 5. -.5 +0.25 -.1", "1:98304 1:32768 1:327680 1:-32768 1:16384 1:-6554");
-    holds(b, "32767.9999999999999 -32768.0 0.0000152587890625 0.0000152587890624",
+    b.gives("0 7 +7 -7 007 2147483647 -2147483648", "0:0 0:7 0:7 0:-7 0:7 0:2147483647 0:-2147483648");
+    b.gives("1.5 .5 5. -.5 +0.25 -.1", "1:98304 1:32768 1:327680 1:-32768 1:16384 1:-6554");
+    b.gives("32767.9999999999999 -32768.0 0.0000152587890625 0.0000152587890624",
         "1:2147483647 1:-2147483648 1:1 1:0");
-    holds(b, "-0.00001525878906250 -0.00001525878906250001", "1:-1 1:-2");
-    holds(b, "16#ff 2#101 36#zZ 02#11 16#FFFFFFFF 8#37777777777", "0:255 0:5 0:1295 0:3 0:-1 0:-1");
+    b.gives("-0.00001525878906250 -0.00001525878906250001", "1:-1 1:-2");
+    b.gives("16#ff 2#101 36#zZ 02#11 16#FFFFFFFF 8#37777777777", "0:255 0:5 0:1295 0:3 0:-1 0:-1");
     b.fails("2147483648", 4, "", "");
     b.fails("-2147483649", 4, "", "");
     b.fails("32768.0", 4, "", "");
@@ -36,13 +36,13 @@ public final class TokenTest {
   }
 
   private static void words(Bench b) {
-    holds(b, "/a/b(c)/d[", "5:1 5:1 8:1 5:1 4:0");
-    holds(b, "/123 /a#!~", "5:3 5:4");
-    holds(b, "1%x ) { (\n2%end", "0:1 0:2");
-    holds(b, "1% \t\u00ff any\n2", "0:1 0:2");
-    holds(b, "/a 5 def //a {//a /a a} aload pop", "0:5 0:5 5:1 5:1x");
-    holds(b, "//true /p {1} def //p", "2:1 9:1x");
-    holds(b, "1 2 //add", "0:3");
+    b.gives("/a/b(c)/d[", "5:1 5:1 8:1 5:1 4:0");
+    b.gives("/123 /a#!~", "5:3 5:4");
+    b.gives("1%x ) { (\n2%end", "0:1 0:2");
+    b.gives("1% \t\u00ff any\n2", "0:1 0:2");
+    b.gives("/a 5 def //a {//a /a a} aload pop", "0:5 0:5 5:1 5:1x");
+    b.gives("//true /p {1} def //p", "2:1 9:1x");
+    b.gives("1 2 //add", "0:3");
     b.prints("<</a 1>>length =", "1\n");
     b.fails("{//none}", 5, "", "");
     b.due("names of a token with an error are met", Bench.ran("{one two //three (}").look(7), 3);
@@ -89,12 +89,12 @@ public final class TokenTest {
     b.fails(thirty, 5, thirty, "");
     b.fails(thirty + "k", 14, "", "");
     b.fails("/" + thirty + "k", 14, "", "");
-    holds(b, "/" + thirty, "5:30");
+    b.gives("/" + thirty, "5:30");
     b.due("20 within one another", Bench.ran("{".repeat(20) + "}".repeat(20)).look(10), 0);
     b.fails("{".repeat(21) + "}".repeat(21), 14, "", "");
-    holds(b, "{" + "1 ".repeat(400) + "}", "9:400x");
+    b.gives("{" + "1 ".repeat(400) + "}", "9:400x");
     b.fails("{" + "1 ".repeat(401) + "}", 14, "", "");
-    holds(b, "(" + "x".repeat(400) + ")", "8:400");
+    b.gives("(" + "x".repeat(400) + ")", "8:400");
     b.fails("(" + "x".repeat(401) + ")", 14, "", "");
     b.fails("(" + "x".repeat(401), 16, "", "");
     b.fails("<" + "00".repeat(401) + ">", 14, "", "");
