@@ -161,6 +161,12 @@ public final class ControlEdgesTest {
     b.prints("/q [/add cvx] def {//q} bind == q ==", "{ [ add ] }\n[ add ]\n");
     b.prints("/p {add sub} def /p load 0 1 getinterval bind pop /p load ==", "{ --add-- sub }\n");
     b.gives("{} bind 1 2 {add} bind exec", "9:0x 0:3");
+    b.prints("/p {add {sub}} def /p load 0 1 getinterval bind pop /p load ==", "{ --add-- { sub } }\n");
+    // What an earlier bind went through is no matter of a later one.
+    b.prints("/x {none} def {1 //x 2} bind pop {//x} bind pop /none /add load def {3} bind pop /x load ==", "{ none }\n");
+    b.prints("/x {none} def {1 //x 2} bind pop {//x} bind pop /none /add load def {//x} bind pop /x load ==", "{ --add-- }\n");
+    int head = Bench.ran("{1 {2 3 4}} bind pop {5}").look(11);
+    b.due("nor of its cost", Bench.ran("{1 {2 3 4}} bind pop {5} bind").look(11) - head, 1 + 1);
     b.gives("/r {add r} def /r load 1 /r load put /r load bind 0 get", "6:0x");
     b.gives("/r {add r} def /r load 1 /r load put /r load bind /r load eq", "2:1");
   }

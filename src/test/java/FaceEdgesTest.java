@@ -377,6 +377,14 @@ public final class FaceEdgesTest {
       }
       b.due("far beyond", line(x, 0, GREATEST, 1), 0);
     }
+    for (int width : new int[] {64, 95, 96}) {
+      PaintTongue full = Bench.ran(width, 96, "-9 -9 moveto 200 -9 lineto 200 200 lineto -9 200 lineto fill");
+      for (int y : new int[] {0, 1, 95}) {
+        for (int from = 0; from <= 130; from++) {
+          b.due("all of " + width + " from " + from, line(full, -1, from, y), pixelsFrom(full, -1, from, y));
+        }
+      }
+    }
     PaintTongue x = Bench.ran(8, 9, "showpage showpage");
     for (int n : new int[] {LEAST, -1}) {
       b.due("x " + n, line(x, -1, n, 0), NO_SUCH);

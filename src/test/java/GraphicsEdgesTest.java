@@ -113,6 +113,18 @@ public final class GraphicsEdgesTest {
     b.bound("[8 8 8 8 0 0] [4 4 4 ? 0 0] matrix concatmatrix", "4", "4.00002", Bench.RANGE);
     b.bound("[1 0 0 1 ? 0] [1 0 0 1 1 0] matrix concatmatrix", "32766.99999", "32767", Bench.RANGE);
     b.bound("[1 0 0 1 0 ?] [1 0 0 1 0 -1] matrix concatmatrix", "-32767", "-32767.00001", Bench.RANGE);
+    // One of the six beyond its bounds is enough.
+    String[] firsts = {"[8 0 0 0 0 0]", "[8 0 0 0 0 0]", "[0 0 8 0 0 0]", "[0 0 8 0 0 0]"};
+    String[] seconds = {"[? 0 0 0 0 0]", "[0 ? 0 0 0 0]", "[? 0 0 0 0 0]", "[0 ? 0 0 0 0]"};
+    for (int i = 0; i < 4; i++) {
+      b.bound(firsts[i] + " " + seconds[i] + " matrix concatmatrix", "8", "8.00002", Bench.RANGE);
+      b.bound(firsts[i] + " " + seconds[i] + " matrix concatmatrix", "-8", "-8.00001", Bench.RANGE);
+      b.bound(seconds[i] + " setmatrix " + firsts[i] + " concat", "8", "8.00002", Bench.RANGE);
+    }
+    for (String row : new String[] {"[1 0 0 .015 0 0]", "[.015 0 0 1 0 0]", "[0 1 .015 0 0 0]", "[0 .015 1 0 0 0]"}) {
+      b.errs(row + " matrix invertmatrix", Bench.RANGE);
+      b.errs(row.replace(".015", ".016") + " matrix invertmatrix", 0);
+    }
     PaintTongue x = Bench.ran("8 8 scale 3 4 translate 9 1 scale");
     b.due("the matrix stays", x.graphics(0) + x.graphics(3) + x.graphics(4) + x.graphics(5), (8 + 8 + 24 + 32) * 65536);
     b.due("the operands stay", Bench.operands(x), "0:9 0:1");
@@ -238,6 +250,8 @@ public final class GraphicsEdgesTest {
     b.errs("[" + fifteen + " 15] cvx setdots", 0);
     b.errs("[99 " + fifteen + " 15 99] 1 16 getinterval setdots", 0);
     b.errs("[15 14 13 12 11 10 9 8 7 6 5 4 3 2 1 0] setdots", 0);
+    b.errs("[" + fifteen + " 15 null] 0 16 getinterval setdots", 0);
+    b.errs("[" + fifteen + " 14 15] 0 16 getinterval setdots", Bench.RANGE);
     b.errs("[" + fifteen + "] setdots", Bench.RANGE);
     b.errs("[" + fifteen + " 15 16] setdots", Bench.RANGE);
     b.errs("[] setdots", Bench.RANGE);

@@ -339,6 +339,7 @@ public final class OperatorEdgesTest {
   private static void lengths(Bench b) {
     b.gives("[] length [1] length () length (ab) length /abc length /abc cvx length 5 dict length << 1 2 >> length",
         "0:0 0:1 0:0 0:2 0:3 0:3 0:0 0:1");
+    b.gives("/pop length /Encoding length /add cvx length", "0:3 0:8 0:3");
     b.gives("[1 2 3] 1 2 getinterval length (abc) 3 0 getinterval length currentdict length", "0:2 0:0 0:0");
   }
 
@@ -457,7 +458,12 @@ public final class OperatorEdgesTest {
     b.fails("(1 2) 0 1 getinterval pop ({a) token", Bench.SYNTAX, "token", "8:2");
     // The string's end is the end: what is behind the part isn't read.
     b.fails("({1}) 0 2 getinterval token", Bench.SYNTAX, "token", "8:2");
-    b.gives("(123) 0 2 getinterval token", "8:0 0:12 2:1");
+    b.fails("(>>) 0 1 getinterval token", Bench.SYNTAX, "token", "8:1");
+    b.fails("(<<) 0 1 getinterval token", Bench.SYNTAX, "token", "8:1");
+    b.fails("(<41>) 0 3 getinterval token", Bench.SYNTAX, "token", "8:3");
+    b.fails("(\\(a\\)) 0 2 getinterval token", Bench.SYNTAX, "token", "8:2");
+    b.fails("(//true) 0 1 getinterval token", Bench.SYNTAX, "token", "8:1");
+    b.gives("(123) 0 2 getinterval token (16#ff) 0 2 getinterval cvi (1.5) 0 1 getinterval cvi", "8:0 0:12 2:1 0:16 0:1");
     PaintTongue x = Bench.ran("((ab) c) token pop exch pop dup 0 120 put ==");
     b.due("a string that token makes has its own bytes", Bench.printed(x), "(xb)\n");
   }

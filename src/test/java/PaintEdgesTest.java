@@ -128,6 +128,13 @@ public final class PaintEdgesTest {
     inks(b, 8, 8, "fill 3 3 moveto fill 3 3 moveto closepath fill 1 1 moveto 7 7 lineto fill 1 1 moveto 7 7 lineto closepath eofill", block(1, 1, 0, 0));
     inks(b, 8, 8, "1 1 moveto 4 1 lineto 4 4 lineto closepath 1 4 lineto 4 4 lineto fill",
         block(1, 1, 3, 3));
+    // What an earlier path had is no matter of a later, shorter one.
+    String longer = "0 0 moveto 7 0 lineto 7 7 lineto 3 5 lineto 0 7 lineto 1 1 lineto 6 6 lineto ";
+    for (String op : new String[] {"fill", "eofill", "clip newpath " + ALL + "fill"}) {
+      inks(b, 8, 8, longer + "fill erasepage " + box("2", "2", "5", "5") + op, block(2, 2, 4, 4));
+      inks(b, 8, 8, longer + "closepath 1 1 lineto fill erasepage " + box("2", "2", "5", "5") + op, block(2, 2, 4, 4));
+    }
+    inks(b, 8, 8, longer + "stroke erasepage 2 setlinewidth 2 4 moveto 6 4 lineto stroke", block(2, 3, 5, 4));
     for (String op : new String[] {"fill", "eofill", "stroke"}) {
       b.due("no path behind " + op, Bench.ran("1 1 moveto 2 2 lineto " + op).look(12), 0);
     }
@@ -412,6 +419,9 @@ public final class PaintEdgesTest {
       PaintTongue x = Bench.ran("{" + image.replace("?", "7") + "} stopped 8");
       b.due("caught", Bench.operands(x), "0:7 2:1 0:8");
       b.due("nothing is painted", x.look(13), 0);
+      // No sign goes there: the graphics stay as they are.
+      x = Bench.ran(".25 setgray gsave {" + image.replace("?", ".5 setgray gsave stop") + "} stopped");
+      b.due("graphics behind a stop in it", x.look(3) * 100000 + x.graphics(8), 232768);
       x = Bench.ran("{{" + image.replace("?", "stop") + "} stopped} stopped");
       b.due("stopped in it", Bench.operands(x) + x.look(13), "2:1 2:00");
     }

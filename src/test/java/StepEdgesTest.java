@@ -11,6 +11,7 @@ public final class StepEdgesTest {
     openDicts(b);
     deepProcedures(b);
     deepRounds(b);
+    deepAndCrowded(b);
     deepStopped(b);
     keptGraphics(b);
     goingAtOnce(b);
@@ -204,6 +205,17 @@ public final class StepEdgesTest {
     }
     b.due("the procedure between two signs", deep(98, PLAIN, "{{} exec pop pop} (ab) kshow").look(10), Bench.EXECFULL);
     b.due("with room", deep(97, PLAIN, "{{} exec pop pop} (ab) kshow").look(10), 0);
+  }
+
+  /** Of a sign's turn EXECFULL is told ahead of OVERFLOW. */
+  private static void deepAndCrowded(Bench b) {
+    for (int under = 98; under <= 99; under++) {
+      PaintTongue x = deep(under, PLAIN, "(a) show");
+      b.due("a sign with " + under + " under way", x.look(10), under == 98 ? 0 : Bench.EXECFULL);
+      x = deep(under, PLAIN, "0 ".repeat(199) + "(a) show");
+      b.due("with 199 operands besides", x.look(10), under == 98 ? Bench.OVERFLOW : Bench.EXECFULL);
+      b.due("its turn is blamed", Bench.blamed(x) + x.look(0), "show199");
+    }
   }
 
   /** A STOPPED comes, then what it takes: errors of that are met within it. */

@@ -216,6 +216,15 @@ public final class TextEdgesTest {
     b.due("no more is done", x.run(20000), 2);
     b.due("steps with the one that failed", x.look(11), 2);
     b.fails("/a 1 def a} b", Bench.SYNTAX, "", "0:1");
+    // A text ends where it ends, whatever bytes an earlier one had behind that place.
+    for (String longer : new String[] {"<<", ">>", "()", "<>", "//", "{}", "/a", "7%", "12"}) {
+      x = Bench.ran(" " + longer + " pop pop");
+      Bench.more(x, "clear");
+      Bench.more(x, " " + longer.charAt(0));
+      boolean number = longer.charAt(0) == '7' || longer.charAt(0) == '1';
+      b.due("a text of " + longer.charAt(0) + " behind one of " + longer, x.run(0), number ? 0 : 2);
+      b.due("its error", number ? x.top(0, 1) : x.look(10), number ? longer.charAt(0) - '0' : Bench.SYNTAX);
+    }
   }
 
   /** A 21st { within one another, the 401st object, a STRING of more than 400 bytes (at its end): LIMIT. */
