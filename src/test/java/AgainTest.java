@@ -16,6 +16,8 @@ public final class AgainTest {
     drawing(b);
     widths(b);
     nestedSigns(b);
+    signsThatWere(b);
+    keptThatWere(b);
     b.close();
   }
 
@@ -71,6 +73,10 @@ public final class AgainTest {
   private static void stoppedRounds(Bench b) {
     PaintTongue x = Bench.ran("{1 1 1 matrix {stop} image} stopped pop 1 1 1 matrix {<00>} image");
     b.due("an image behind one that was stopped", x.look(10) * 10 + x.look(13), 1);
+    x = Bench.ran("{1 1 1 matrix {stop} image} stopped pop {1 1 1 matrix {<00>} image} stopped 7");
+    b.due("one in the same place", Bench.operands(x) + " " + x.look(10) + x.look(13), "2:0 0:7 01");
+    x = Bench.ran(String.format(FONT, "exch pop 97 eq {stop} if 2 0 setcharwidth") + "{(a) show} stopped pop {(bc) show} stopped 7");
+    b.due("signs in the same place", Bench.operands(x) + " " + x.look(10) + x.graphics(6) / 65536, "2:0 0:7 05");
     x = Bench.ran(String.format(FONT, "exch pop 97 eq {stop} if 2 0 setcharwidth") + "{(a) show} stopped pop (bc) show");
     b.due("signs behind one that was stopped", x.look(10) * 100 + x.graphics(6) / 65536, 5);
     x = Bench.ran(String.format(FONT, "exch pop 97 eq {stop} if 2 0 setcharwidth") + "{{} (ba) kshow} stopped clear {pop pop} (bc) kshow");
@@ -82,7 +88,9 @@ public final class AgainTest {
   private static void leftRounds(Bench b) {
     b.gives("5 {exit} repeat 1 2 moveto 3 4 lineto {} {} {} {} pathforall", "1:65536 1:131072 1:196608 1:262144");
     b.gives("1 2 moveto 3 4 lineto {pop pop exit} {} {} {} pathforall {} {} {} {} pathforall", "1:65536 1:131072 1:196608 1:262144");
+    b.gives("5 {exit} repeat 1 2 moveto 3 4 lineto {} {} {} {} pathforall 7", "1:65536 1:131072 1:196608 1:262144 0:7");
     b.gives("7 1 9 {pop exit} for 2 {5} repeat", "0:5 0:5");
+    b.gives("7 1 9 {pop exit} for 2 {5} repeat 3 1 4 {} for 7", "0:5 0:5 0:3 0:4 0:7");
     b.gives("[1 2 3] {pop exit} forall [4 5] {} forall (ab) {} forall", "0:4 0:5 0:97 0:98");
     PaintTongue x = Bench.ran("8 1 1 matrix {<00>} image erasepage /k 0 def 16 1 1 matrix {k 0 eq {/k 1 def <00>} {<>} ifelse} image");
     b.due("an image behind another one", x.look(13), 8);
@@ -90,10 +98,12 @@ public final class AgainTest {
 
   /** What was under way in the same place uses nothing any more. */
   private static void usedNoMore(Bench b) {
-    b.errs("/p {restore} def /e {pop} def save [1] /e load forall restore save 1 /p load repeat", 0);
-    b.errs("/p {restore 1} def save 1 {2 pop} repeat restore save p", 0);
-    b.errs("/p {restore 1} def save (2 pop) cvx exec restore save p", 0);
-    b.errs("/p {restore} def save 1 1 1 {pop} for restore save /p load stopped", 0);
+    b.errs("/p {restore} def /e {pop} def save [1] /e load forall restore save 1 /p load repeat 7", 0);
+    b.errs("/p {restore 1} def save 1 {2 pop} repeat restore save p 7", 0);
+    b.errs("/p {restore 1} def save (2 pop) cvx exec restore save p 7", 0);
+    b.errs("/p {restore} def save 1 1 1 {pop} for restore save /p load stopped 7", 0);
+    b.errs("/p {restore} def save [1] {pop} forall restore save /p load stopped 7", 0);
+    b.errs("/p {restore exit} def save (a) {pop} forall restore save /p load loop 7", 0);
   }
 
   private static void stoppedNames(Bench b) {
@@ -163,6 +173,36 @@ public final class AgainTest {
     String full = "299 {.01 0 rlineto} repeat ";
     b.errs(String.format(FONT, "pop pop 1 0 setcharwidth") + full + "(ab) stringwidth", 0);
     b.errs(String.format(FONT, "pop pop 1 0 setcharwidth") + full + "(a) show", Bench.LIMIT);
+  }
+
+  /** A sign or a stringwidth that was under way in a place is no matter of what is done while that place is free. */
+  private static void signsThatWere(Bench b) {
+    String stops = String.format(FONT, "stop");
+    b.fails(stops + "{(a) show} stopped clear {1 0 setcharwidth 7} exec", Bench.UNDEFINED, "setcharwidth", "0:1 0:0");
+    b.fails(stops + "{(a) show} stopped clear {{1 0 setcharwidth 7} exec 8} exec", Bench.UNDEFINED, "setcharwidth", "0:1 0:0");
+    b.fails(stops + "{(a) show} stopped clear 1 0 setcharwidth 7", Bench.UNDEFINED, "setcharwidth", "0:1 0:0");
+    String box = "newpath 0 0 moveto 4 0 lineto 4 4 lineto 0 4 lineto fill";
+    for (String text : new String[] {box + " 7", "{" + box + " 7} exec 8", "{{" + box + " 7} exec 8} exec 9", box}) {
+      for (String width : new String[] {"(a) stringwidth ", "{(a) stringwidth} stopped ", "{{(a) stringwidth 1} exec 2} exec "}) {
+        PaintTongue x = Bench.ran(String.format(FONT, "pop pop") + width + text);
+        b.due("painted behind " + width + text, x.look(13), 16);
+        x = Bench.ran(stops + "{" + width + "} stopped " + text);
+        b.due("painted behind a stopped " + width + text, x.look(13), 16);
+      }
+    }
+  }
+
+  /** What a save had kept is no matter of a gsave's that is in its place. */
+  private static void keptThatWere(Bench b) {
+    for (String text : new String[] {"gsave save restore ", "gsave save save pop restore ", "gsave save save save pop pop restore ",
+        String.format(FONT, "pop pop") + "gsave (ab) show ", String.format(FONT, "pop pop") + "gsave (ab) stringwidth "}) {
+      PaintTongue x = Bench.ran(text + ".5 setgray grestoreall");
+      b.due(text + "and grestoreall", x.look(3) * 100000 + x.graphics(8), 0);
+      x = Bench.ran(text + ".5 setgray gsave .25 setgray grestore");
+      b.due(text + "and grestore", x.look(3) * 100000 + x.graphics(8), 132768);
+      x = Bench.ran(text + ".5 setgray gsave gsave .25 setgray grestoreall");
+      b.due(text + "and more", x.look(3) * 100000 + x.graphics(8), 0);
+    }
   }
 
   /** Saves of an outer sign go with it where an inner one is stopped. */

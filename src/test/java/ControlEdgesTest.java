@@ -168,6 +168,8 @@ public final class ControlEdgesTest {
     int head = Bench.ran("{1 {2 3 4}} bind pop {5}").look(11);
     b.due("nor of its cost", Bench.ran("{1 {2 3 4}} bind pop {5} bind").look(11) - head, 1 + 1);
     b.gives("/r {add r} def /r load 1 /r load put /r load bind 0 get", "6:0x");
+    // Names alone are looked up, whatever else is a key.
+    b.gives("/add load /sub load def {//add} bind 0 get /add load eq", "2:1");
     b.gives("/r {add r} def /r load 1 /r load put /r load bind /r load eq", "2:1");
   }
 
@@ -188,6 +190,10 @@ public final class ControlEdgesTest {
     x = Bench.ran(two.replace("?", "999") + "/q load bind");
     int head = Bench.ran(two.replace("?", "999") + "/q load").look(11);
     b.due("no cost where it is refused", x.look(11), head + 1);
+    // As many procedures as elements: the last one is gone through, too.
+    String empty = "/a 999 array def /c 1000 array def 0 1 997 {a exch 0 array cvx put} for 0 1 998 {c exch 0 array cvx put} for a 998 c cvx put ";
+    b.gives(empty + "c 999 {add} put a cvx bind pop c 999 get 0 get", "6:0x");
+    b.errs(empty + "c 999 {add sub} put a cvx bind", Bench.LIMIT);
   }
 
   /** At most 10 are LIVE, and 20 GRAPHICS kept: LIMIT. */
@@ -231,9 +237,19 @@ public final class ControlEdgesTest {
       b.errs("save [" + made + "] pop restore", 0);
       b.errs("[0] save exch dup 0 " + made + " put exch restore", 0);
     }
-    for (String other : new String[] {"1", "1.5", "true", "null", "mark", "/new", "/add load", "save", "currentdict"}) {
+    for (String other : new String[] {"1", "1.5", "true", "null", "mark", "/new", "/add load", "save", "currentdict", "-1", "2147483647", "-1.5",
+        "32767.99999", "-2147483648", "100000000"}) {
       b.errs("save " + other + " exch restore", 0);
+      b.errs(other + " save restore", 0);
     }
+    // Wherever it is among the others.
+    b.errs("1 save [1] exch restore", Bench.RESTORE);
+    b.errs("[2] 1 save (a) exch restore", Bench.RESTORE);
+    b.errs("save [1] 2 3 4 -1 roll restore", Bench.RESTORE);
+    b.errs("(a) save 1 [1] 2 4 -1 roll restore", Bench.RESTORE);
+    b.errs("/d 1 dict def save 1 dict begin d begin restore", Bench.RESTORE);
+    b.errs("/d 1 dict def save d begin 1 dict begin restore", Bench.RESTORE);
+    b.errs("/d 1 dict def save d begin d begin restore", 0);
     b.fails("save 1 dict begin restore", Bench.RESTORE, "restore", "7:0");
     b.errs("1 dict save exch begin restore", 0);
     b.errs("save 1 dict begin end restore", 0);
@@ -263,6 +279,11 @@ public final class ControlEdgesTest {
     for (String text : used) {
       b.errs(text, Bench.RESTORE);
     }
+    for (String text : new String[] {"/p {restore 7} def save {p 8} exec 9", "/p {restore 7} def save 1 {p 8} repeat 9",
+        "/p {restore 7} def /q {p 6} def save {q 8} exec 9", "/p {restore 7} def save (p 8) cvx exec 9"}) {
+      b.errs(text, Bench.RESTORE);
+    }
+    b.errs("/p {restore 7} def /q {p 6} def /r {q 5} def save r 9", 0);
     String[] unused = {"save {restore} exec", "/p {restore 1} def save p", "/s (restore 1) cvx def save s", "/p {restore} def save 1 /p load repeat",
         "/p {pop restore} def save 1 1 1 /p load for", "/p {pop restore} def /r [1] def save r /p load forall",
         "/p {pop restore} def /s (a) def save s /p load forall", "/p {restore exit} def save /p load loop", "save {1} pop restore",

@@ -1,7 +1,7 @@
 /** The boundary cases that the promises 1 to 15 name, both sides of each. */
 public final class FaceEdgesTest {
   private static final int LEAST = Integer.MIN_VALUE, GREATEST = Integer.MAX_VALUE;
-  private static final long NO_POINT = Long.MIN_VALUE, NO_SUCH = Long.MAX_VALUE;
+  private static final long NO_POINT = Long.MIN_VALUE, NO_SUCH = Long.MAX_VALUE, BY_THE_MACHINE = 1L << 40;
   private static final String BOX = "/box {newpath moveto 1 0 rlineto 0 1 rlineto -1 0 rlineto fill} def ";
   private static final String FONT = "/F << /FontMatrix matrix /BuildChar {pop pop %s} >> definefont setfont 1 2 moveto ";
 
@@ -395,6 +395,14 @@ public final class FaceEdgesTest {
     for (int n : new int[] {LEAST, -2, 2, 3, 4, GREATEST}) {
       b.due("page " + n, line(x, n, 0, 0), NO_SUCH);
     }
+    // One of the three is enough, wherever the others are.
+    for (int n : new int[] {0, 1, 8, 31, 32, 64, 95, 96, 128, GREATEST}) {
+      b.due("a line below the page from " + n, line(x, -1, n, -1), NO_SUCH);
+      b.due("a line above the page from " + n, line(x, -1, n, 9), NO_SUCH);
+      b.due("no such page from " + n, line(x, 2, n, 0), NO_SUCH);
+      b.due("x below 0 in line " + n, line(x, -1, -1, Math.min(8, n)), NO_SUCH);
+      b.due("x far below 0 in line " + n, line(x, -1, -33, Math.min(8, n)), NO_SUCH);
+    }
     b.due("the last line of the last page", line(x, 1, 0, 8), 0);
   }
 
@@ -410,7 +418,7 @@ public final class FaceEdgesTest {
     try {
       return x.line(k, from, y);
     } catch (IndexOutOfBoundsException e) {
-      return NO_SUCH;
+      return e.getClass() == IndexOutOfBoundsException.class ? NO_SUCH : BY_THE_MACHINE;
     }
   }
 
@@ -437,9 +445,9 @@ public final class FaceEdgesTest {
     try {
       return x.graphics(what);
     } catch (IllegalStateException e) {
-      return NO_POINT;
+      return e.getClass() == IllegalStateException.class ? NO_POINT : BY_THE_MACHINE;
     } catch (IllegalArgumentException e) {
-      return NO_SUCH;
+      return e.getClass() == IllegalArgumentException.class ? NO_SUCH : BY_THE_MACHINE;
     }
   }
 

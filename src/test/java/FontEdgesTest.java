@@ -68,6 +68,7 @@ public final class FontEdgesTest {
         "[1 0 0 1 32768 0]", "[1 0 0 1 0 -32769]", "[40000 0 0 1 0 0]"}) {
       fits(b, dict(matrix, "{}", ""), false);
     }
+    fits(b, dict("(abcdef) [1 0 0 1 0 0] pop", "{}", ""), false);
     for (String encoding : new String[] {"()", "null", "1", "1 dict", "/a", "true"}) {
       fits(b, dict("matrix", "{}", "/Encoding " + encoding), false);
     }
@@ -358,6 +359,19 @@ public final class FontEdgesTest {
     x = Bench.ran(font("pop pop 1 0 setcharwidth") + "(ab) stringwidth");
     int head = Bench.ran(font("pop pop 1 0 setcharwidth")).look(11);
     b.due("steps", x.look(11) - head, 2 + 2 * 6);
+    b.prints(at("pop pop currentgray = 0 0 transform exch = = .5 setgray gsave 2 0 setcharwidth") + "(abc) stringwidth pop pop",
+        "0.0\n0.0\n0.0\n0.0\n2.0\n0.0\n0.0\n4.0\n0.0\n");
+    x = Bench.ran(at("pop pop") + "[2 3 4 5 6 7] setmatrix 1 1 lineto");
+    Bench.tape(x, "(a) stringwidth 9");
+    x.start();
+    x.run(2);
+    b.due("the matrix is without tx, ty", x.graphics(4) * 10L + x.graphics(5), 0);
+    b.due("all else of it is there", (((x.graphics(0) * 10L + x.graphics(1)) * 10 + x.graphics(2)) * 10 + x.graphics(3)) / 65536, 2345);
+    b.due("the path is a move", x.look(12) * 10 + x.part(0, 0), 10);
+    b.due("to 0, 0", x.part(0, 1) * 10L + x.part(0, 2), 0);
+    b.due("the graphics are kept", x.look(3) * 10 + x.look(2), 12);
+    x.run(20000);
+    b.due("then all is as before", x.look(12) * 10 + (x.graphics(4) + x.graphics(5)) / 65536, 33);
   }
 
   /** x, y the sums: RANGE. */
@@ -443,6 +457,12 @@ public final class FontEdgesTest {
         b.due("under way: " + show + " with " + end, x.look(2), 0);
       }
     }
+    // Between two signs there is none: the graphics stay as they are.
+    PaintTongue y = Bench.ran(at("pop pop 2 0 setcharwidth") + "{{pop pop gsave .5 setgray stop} (ab) kshow} stopped");
+    b.due("stopped between two signs", Bench.operands(y) + y.look(3) + y.graphics(8), "2:1132768");
+    b.due("the first one was through", y.graphics(6), 3 * 65536);
+    b.fails("1 1 1 matrix {1 0 setcharwidth <00>} image", Bench.UNDEFINED, "setcharwidth", "0:1 0:0");
+    b.fails(at("pop pop 2 0 setcharwidth") + "{pop pop 1 0 setcharwidth} (ab) kshow", Bench.UNDEFINED, "setcharwidth", "0:1 0:0");
     // A STOPPED within the sign: the sign goes on.
     PaintTongue x = Bench.ran(at("pop pop {.5 setgray stop} stopped pop currentgray = 2 0 setcharwidth") + "(a) show");
     b.due("caught in the sign", Bench.printed(x) + x.graphics(6) / 65536, "0.5\n3");

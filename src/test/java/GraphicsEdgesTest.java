@@ -193,6 +193,26 @@ public final class GraphicsEdgesTest {
     b.gives("0 0 [.0001 0 0 .0001 0 0] itransform", "1:0 1:0");
     b.gives(FIXED_ONE + " 0 [" + FIXED_ONE + " 0 0 " + FIXED_ONE + " 0 0] idtransform", "1:65536 1:0");
     b.gives("-32768.0 32767.99999 itransform", "1:-2147483648 1:2147483647");
+    leaning(b);
+  }
+
+  /** Each of the six has its own part in a place and in the way back. */
+  private static void leaning(Bench b) {
+    String lean = "[1 2 3 4 5 6] setmatrix ";
+    b.gives(lean + "7 8 transform 7 8 dtransform 36 52 itransform 31 46 idtransform",
+        "1:" + 36 * 65536 + " 1:" + 52 * 65536 + " 1:" + 31 * 65536 + " 1:" + 46 * 65536 + " 1:" + 7 * 65536 + " 1:" + 8 * 65536 + " 1:" + 7 * 65536 + " 1:"
+            + 8 * 65536);
+    draws(b, lean + "7 8 moveto", "m36,52", 1);
+    draws(b, lean + "7 8 moveto 0 1 lineto", "m36,52 l8,10", 2);
+    draws(b, lean + "7 8 moveto 1 0 rlineto", "m36,52 l37,54", 2);
+    draws(b, lean + "7 8 moveto 0 1 rlineto", "m36,52 l39,56", 2);
+    draws(b, lean + "7 8 moveto 1 10 rmoveto", "m67,94", 1);
+    draws(b, lean + "7 8 moveto 0 0 1 0 0 1 curveto", "m36,52 c5,6,6,8,8,10", 4);
+    draws(b, lean + "7 8 moveto 0 0 1 0 0 1 rcurveto", "m36,52 c36,52,37,54,39,56", 4);
+    b.gives(lean + "7 8 moveto currentpoint 2 3 lineto currentpoint", "1:458752 1:524288 1:131072 1:196608");
+    b.gives(lean + "7 8 moveto 2 3 lineto {} {} {} {} pathforall", "1:458752 1:524288 1:131072 1:196608");
+    b.gives("[1 0 0 1 5 -6] setmatrix 7 8 moveto currentpoint {} {} {} {} pathforall pathbbox",
+        "1:458752 1:524288 1:458752 1:524288 1:458752 1:524288 1:458752 1:524288");
   }
 
   /** RESULT, of each that goes BACK. */
@@ -257,6 +277,19 @@ public final class GraphicsEdgesTest {
     b.errs("[] setdots", Bench.RANGE);
     for (String last : new String[] {"16", "-1", "0", "14", "2147483647", "-2147483648", "32", "31", "47"}) {
       b.fails("[" + fifteen + " " + last + "] setdots", Bench.RANGE, "setdots", "9:16");
+    }
+    // Each of the 16 must be there: another one, or one beyond, in its place.
+    for (int missing = 0; missing < 16; missing++) {
+      StringBuilder row = new StringBuilder();
+      for (int i = 0; i < 16; i++) {
+        row.append(i == missing ? "?" : "" + i).append(' ');
+      }
+      b.bound("[" + row + "] setdots", "" + missing, "" + (missing + 1) % 16, Bench.RANGE);
+      for (int other : new int[] {missing + 16, missing - 16, missing + 32, missing - 32, missing - 64, 16, -1}) {
+        b.errs("[" + row.toString().replace("?", "" + other) + "] setdots", Bench.RANGE);
+      }
+      b.errs("[" + missing + " " + row.toString().replace("?", "" + (missing + 1) % 16) + "] 1 16 getinterval setdots", Bench.RANGE);
+      b.errs("[" + row.toString().replace("?", "" + (missing + 1) % 16) + missing + "] 0 16 getinterval setdots", Bench.RANGE);
     }
     for (String last : new String[] {"15.0", "null", "true", "/a", "(a)"}) {
       b.fails("[" + fifteen + " " + last + "] setdots", Bench.TYPE, "setdots", "9:16");
@@ -405,6 +438,29 @@ public final class GraphicsEdgesTest {
     b.gives("0 0 moveto -5 6 7 -8 1 1 curveto pathbbox", "1:-327680 1:-524288 1:458752 1:393216");
     b.gives("0 0 moveto 4 2 lineto 2 2 scale pathbbox", "1:0 1:0 1:131072 1:65536");
     b.gives("1 2 moveto 4 8 lineto -1 -2 scale pathbbox", "1:-262144 1:-262144 1:-65536 1:-65536");
+    // All four corners of the box go back, under matrices that turn, lean and move it.
+    for (int n = 0; n < 40; n++) {
+      long[] m = {(n % 5 - 2) * 65536L + n, (n % 7 - 3) * 65536L, (n % 3 - 1) * 65536L, (n % 4 - 1) * 65536L + 5, n * 65536L, -3 * n * 65536L};
+      if (m[0] * m[3] == m[1] * m[2]) {
+        continue;
+      }
+      String text = "-5 11 moveto 1 3 lineto 7 5 lineto " + Ink.matrix(m) + " setmatrix pathbbox";
+      long[] box = {Long.MAX_VALUE, Long.MAX_VALUE, Long.MIN_VALUE, Long.MIN_VALUE};
+      boolean beyond = false;
+      for (int corner = 0; corner < 4; corner++) {
+        long[] back = Ink.back(m, (corner % 2 == 0 ? -5 : 7) * 65536L, (corner < 2 ? 3 : 11) * 65536L);
+        beyond |= back == null;
+        for (int k = 0; k < 2 && back != null; k++) {
+          box[k] = Math.min(box[k], back[k]);
+          box[2 + k] = Math.max(box[2 + k], back[k]);
+        }
+      }
+      if (beyond) {
+        b.errs(text, Bench.RANGE);
+      } else {
+        b.gives(text, "1:" + box[0] + " 1:" + box[1] + " 1:" + box[2] + " 1:" + box[3]);
+      }
+    }
   }
 
   /** For each of the path as it is then, its places BACK, all worked as it begins. */

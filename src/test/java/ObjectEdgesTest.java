@@ -18,6 +18,7 @@ public final class ObjectEdgesTest {
     pairs(b);
     kindsOfKeys(b);
     stringsAsKeys(b);
+    manyNames(b);
     keysFirst(b);
     same(b);
     b.close();
@@ -271,6 +272,23 @@ public final class ObjectEdgesTest {
     b.prints("(a b\\000) 5 def (a b\\000) load = (a b\\000) cvn length =", "5\n4\n");
     // The bytes of then: a string that is changed afterwards is another key.
     b.prints("/s (ab) def s 1 def s 0 120 put /ab load = s where =", "1\nfalse\n");
+  }
+
+  /** NAMES have 1 to 30 bytes; alike are one. */
+  private static void manyNames(Bench b) {
+    String set = "/s 30 string def 0 1 29 {s exch 97 put} for ";
+    String each = "1000 1 1998 {s 0 4 getinterval cvs pop s cvn s eq not {stop} if} for ";
+    PaintTongue x = Bench.ran(set + each + each);
+    b.due("a thousand names of 30 bytes", x.look(7) * 100 + x.look(10), 100000);
+    b.due("all are alike with their bytes", x.run(0), 0);
+    Bench.more(x, "s 0 98 put s cvn");
+    b.due("one more", x.look(10), Bench.LIMIT);
+    String beginnings = "97 1 129 {0 1 29 {s exch 2 index put} for pop 1 1 30 {s 0 3 -1 roll getinterval dup cvn eq not {stop} if} for} for ";
+    for (String order : new String[] {"1 1 30", "30 -1 1"}) {
+      x = Bench.ran("/s 30 string def " + (beginnings + beginnings).replace("1 1 30", order));
+      b.due("names that begin alike, s itself among them", x.look(7), 33 * 30);
+      b.due("each has its own bytes", x.run(0) * 100 + x.look(10), 0);
+    }
   }
 
   /** Both ahead of all that the KEY is for. */

@@ -71,6 +71,14 @@ public final class OperatorEdgesTest {
     b.prints("/s (abcdef) def s 0 4 getinterval s 2 4 getinterval copy == s ==", "(abcd)\n(ababcd)\n");
     b.prints("/r [1 2 3 4] def r 0 3 getinterval r 1 3 getinterval copy == r ==", "[ 1 2 3 ]\n[ 1 1 2 3 ]\n");
     b.gives("{1} [5 6] copy [1] {5 6} copy (a) (bc) cvx copy", "9:1 9:1x 8:1x");
+    // Of one kind, but not composite.
+    for (String pair : new String[] {"1.5 2.5", "true false", "null null", "mark mark", "/a /b", "/add load dup", "save dup"}) {
+      b.errs(pair + " copy", Bench.TYPE);
+    }
+    // What is made behind the second one isn't touched.
+    b.gives("/d << 1 10 2 20 3 30 >> def /e 3 dict def /r [4 5 6 7 8 9] def d e copy {} forall r aload pop",
+        "0:1 0:10 0:2 0:20 0:3 0:30 0:4 0:5 0:6 0:7 0:8 0:9");
+    b.gives("/a [1 2 3] def /r [4 5] def [7 8 9] a copy aload pop r aload pop", "0:7 0:8 0:9 0:4 0:5");
   }
 
   /** RANGE; UNDERFLOW. */
@@ -256,6 +264,10 @@ public final class OperatorEdgesTest {
       b.gives(up + " gt " + up + " ge " + up + " lt " + up + " le", "2:0 2:0 2:1 2:1");
       b.gives(down + " gt " + down + " ge " + down + " lt " + down + " le", "2:1 2:1 2:0 2:0");
     }
+    // What is behind a part doesn't count.
+    b.gives("(abz) 0 2 getinterval (aba) lt (aba) (abz) 0 2 getinterval lt (abz) 0 2 getinterval (ab) eq", "2:1 2:0 2:1");
+    b.gives("(ab) (abz) 0 2 getinterval eq (abz) 0 2 getinterval /ab eq /abz (abz) 0 2 getinterval eq", "2:1 2:1 2:0");
+    b.gives("(abz) 0 2 getinterval (abz) gt (abz) (abz) 0 2 getinterval gt", "2:0 2:1");
     for (String same : new String[] {"1 1", "1 1.0", "-2147483648 -2147483648", "() ()", "(ab) (ab)", "-32768 -32768.0"}) {
       b.gives(same + " gt " + same + " ge " + same + " lt " + same + " le", "2:0 2:1 2:0 2:1");
     }
@@ -266,6 +278,7 @@ public final class OperatorEdgesTest {
     b.gives("/a cvx /add load cvl (s) cvx [1] cvx", "5:1x 6:0 8:1x 9:1x");
     b.gives("1 cvx 1.5 cvx true cvx null cvx mark cvx save cvx 1 dict cvx", "0:1 1:98304 2:1 3:0 4:0 7:0 10:0");
     b.gives("/a cvx cvl /add load cvx {1} cvl (s) cvx cvl 1 cvl", "5:1 6:0x 9:1 8:1 0:1");
+    b.gives("/add load cvl cvx 1 2 /add load cvl cvx exec", "6:0x 0:3");
     b.gives("/a xcheck /a cvx xcheck {} xcheck [] xcheck 1 xcheck /add load xcheck", "2:0 2:1 2:1 2:0 2:0 2:1");
     b.gives("1 type 1.0 type true type null type mark type /a type /add load type save type () type [] type 1 dict type",
         "5:11x 5:8x 5:11x 5:8x 5:8x 5:8x 5:12x 5:8x 5:10x 5:9x 5:8x");
@@ -340,6 +353,7 @@ public final class OperatorEdgesTest {
     b.gives("[] length [1] length () length (ab) length /abc length /abc cvx length 5 dict length << 1 2 >> length",
         "0:0 0:1 0:0 0:2 0:3 0:3 0:0 0:1");
     b.gives("/pop length /Encoding length /add cvx length", "0:3 0:8 0:3");
+    b.gives("(abcdef) 2 3 getinterval cvx length {a b c} length", "0:3 0:3");
     b.gives("[1 2 3] 1 2 getinterval length (abc) 3 0 getinterval length currentdict length", "0:2 0:0 0:0");
   }
 
@@ -437,6 +451,9 @@ public final class OperatorEdgesTest {
     b.prints("/s (abcd) def s (bc) search pop 0 120 put 0 121 put 0 122 put s ==", "(xycz)\n");
     b.prints("/s (abcd) def s (ab) anchorsearch pop 0 121 put 0 122 put s ==", "(ybzd)\n");
     b.gives("(abc) cvx (b) search (abc) (b) cvx search pop pop pop", "8:1x 8:1x 8:1x 2:1 8:1");
+    // Nothing is found behind the string's end, nor looked for.
+    b.gives("/t (z) def (abc) t search", "8:3 2:0");
+    b.gives("(abc) 0 2 getinterval (c) search (abc) 0 2 getinterval (bc) search (abc) 0 2 getinterval (abc) anchorsearch", "8:2 2:0 8:2 2:0 8:2 2:0");
   }
 
   /** Its first token as an object, post the part behind it; or false. */
@@ -481,6 +498,10 @@ public final class OperatorEdgesTest {
     b.prints("/add where = /none where = /true 5 def /true where = pop true =", "false\nfalse\ntrue\n5\n");
     b.prints("/sub 5 store currentdict /sub known =", "true\n");
     b.gives("1 dict dup 5 known exch dup 5 6 put 5 known currentdict /add known", "2:0 2:1 2:0");
+    b.gives("/d << 1 10 2 20 3 30 4 40 5 50 6 60 >> def /r [7 8 9] def d 1 undef d {} forall r aload pop",
+        "0:2 0:20 0:3 0:30 0:4 0:40 0:5 0:50 0:6 0:60 0:7 0:8 0:9");
+    b.gives("/d << 1 10 2 20 3 30 4 40 5 50 6 60 >> def /r [7 8 9] def d 3 undef d 6 undef d 9 90 put d {} forall r aload pop",
+        "0:1 0:10 0:2 0:20 0:4 0:40 0:5 0:50 0:9 0:90 0:7 0:8 0:9");
     b.gives("1 dict dup 5 undef dup 5 6 put dup 5 undef length currentdict /add undef 1 2 add", "0:0 0:3");
     b.prints("currentdict 1 dict dup begin currentdict eq = end currentdict eq =", "true\ntrue\n");
     b.fails("/a 1 def currentdict /a undef a", Bench.UNDEFINED, "a", "");

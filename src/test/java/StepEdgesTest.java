@@ -32,12 +32,14 @@ public final class StepEdgesTest {
       Bench.more(x, "0 ".repeat(200 - gives + more) + taken);
       int before = x.look(0);
       int room = x.look(4);
+      String operands = Bench.operands(x);
       b.due("operands ahead of " + text, before, 200 - gives + more + takes);
       int answer = Bench.more(x, text);
       b.due(text + " with " + before, answer, more == 0 ? 0 : 2);
       b.due("error of " + text, x.look(10), more == 0 ? 0 : Bench.OVERFLOW);
       b.due("operands behind " + text, x.look(0), more == 0 ? 200 : before);
       if (more == 1) {
+        b.due("they stay: " + text, Bench.operands(x), operands);
         b.due("no room taken by " + text, x.look(4), room);
         b.due("no save by " + text, x.look(6) + x.look(3), 0);
       }
@@ -114,6 +116,7 @@ public final class StepEdgesTest {
     PaintTongue x = Bench.ran(PLAIN);
     Bench.more(x, "0 ".repeat(199) + "() stringwidth");
     b.due("no room for a width", x.look(10), Bench.OVERFLOW);
+    b.due("nor for a half of it", x.look(0), 199);
     b.due("no graphics stay kept", x.look(3), 0);
   }
 
@@ -351,6 +354,9 @@ public final class StepEdgesTest {
     steps(b, "{1 {2 {3} 4}} bind", 2 + 2 + 3 + 1);
     steps(b, "/p {1 2} def {//p //p} bind", 3 + 2 + 2 + 2);
     steps(b, "{1 [2 3]} bind", 2 + 5);
+    // One that is an element of itself, or twice an element, is gone through once.
+    steps(b, "/r {add r} def /r load 1 /r load put /r load bind", 3 + 6 + 3 + 2);
+    steps(b, "/r {1 2 3} def {//r {//r 4} //r} bind", 3 + 2 + 3 + 3 + 2);
     // A turn that fails counts as a step; what it would have cost does not.
     PaintTongue x = Bench.ran("1 2 1 matrix {5} image");
     b.due("an image that doesn't paint", x.look(11), 6 + 2);

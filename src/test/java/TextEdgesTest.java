@@ -14,6 +14,7 @@ public final class TextEdgesTest {
     hexStrings(b);
     procedures(b);
     syntax(b);
+    besideDigits(b);
     limits(b);
     firstErrors(b);
     nothingMade(b);
@@ -227,6 +228,16 @@ public final class TextEdgesTest {
     }
   }
 
+  /** A byte next to the digits is none. */
+  private static void besideDigits(Bench b) {
+    for (String name : new String[] {":#1", "1:#1", ":1#1", "1:", ":", "1;", "1.:", "16#:", "2#2", "9#9", "11#b", "36#1:"}) {
+      isName(b, name);
+      b.errs("(" + name + ") cvi", Bench.TYPE);
+    }
+    // The last of the digits that count no more may be 0.
+    b.gives("-.500000000000000010 -.50000000000000001 -.5000000000000000100 -.5000000000000000", "1:-32769 1:-32769 1:-32769 1:-32768");
+  }
+
   /** A 21st { within one another, the 401st object, a STRING of more than 400 bytes (at its end): LIMIT. */
   private static void limits(Bench b) {
     b.errs("{".repeat(20) + "1" + "}".repeat(20), 0);
@@ -239,6 +250,9 @@ public final class TextEdgesTest {
     b.errs("{" + "1 ".repeat(401), Bench.LIMIT);
     b.errs("{" + "1 ".repeat(400), Bench.SYNTAX);
     b.gives("{{" + "1 ".repeat(400) + "}{" + "/a ".repeat(400) + "}" + "2 ".repeat(398) + "}", "9:400x");
+    // Each of those that are open at once may have as many.
+    b.gives("{" + "1 ".repeat(399) + "{" + "2 ".repeat(399) + "{" + "3 ".repeat(400) + "}}} dup length exch 399 get dup length exch 399 get length",
+        "0:400 0:400 0:400");
     for (String last : new String[] {"()", "<>", "/a", "a", "{}", "[", "<<", "//true", "1.5"}) {
       b.errs("{" + "1 ".repeat(399) + last + "}", 0);
       b.errs("{" + "1 ".repeat(400) + last + "}", Bench.LIMIT);
