@@ -198,6 +198,11 @@ public final class ObjectEdgesTest {
     x = Bench.ran("2998 {0 string pop} repeat");
     b.due("no body for the outer one", Bench.more(x, "{{}}"), 2);
     b.due("nor for the inner one then", x.look(5), 2999);
+    // All of them are kept by a save, and given back.
+    x = Bench.ran("/r [1 2] def 2996 {0 dict pop} repeat /d 1 dict def /e {r 0 get d length} def");
+    b.due("3,000 bodies to be kept", x.look(5), 3000);
+    Bench.more(x, "save ".repeat(10) + "r 0 7 put d 1 2 put e 11 index restore e");
+    b.due("all is given back", Bench.operands(x) + " " + x.look(10), "7:0 ".repeat(10) + "0:7 0:1 0:1 0:0 0");
   }
 
   /** New ones have bytes 0, NULLS, no pairs: also where others were that are gone. */

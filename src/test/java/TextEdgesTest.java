@@ -263,6 +263,8 @@ public final class TextEdgesTest {
     b.errs("(" + "x".repeat(401) + ")", Bench.LIMIT);
     b.errs("(" + "()".repeat(201) + ")", Bench.LIMIT);
     b.errs("(" + "()".repeat(200) + ")", 0);
+    b.gives("(y" + "x".repeat(398) + "z) dup 0 get exch dup 398 get exch 399 get", "0:121 0:120 0:122");
+    b.gives("<42" + "41".repeat(398) + "43> dup 0 get exch dup 398 get exch 399 get", "0:66 0:65 0:67");
     b.gives("<" + "41".repeat(400) + ">", "8:400");
     b.gives("<" + "41".repeat(399) + "4 >", "8:400");
     b.errs("<" + "41".repeat(400) + "4>", Bench.LIMIT);
