@@ -217,6 +217,8 @@ public final class FaceEdgesTest {
     b.due("those that are new", x.look(7), 8);
     Bench.more(x, "unknown");
     b.due("a name without a value too", x.look(7), 9);
+    Bench.more(x, "1 dict (sought) get");
+    b.due("one as a key that isn't there", x.look(7) * 10 + x.look(10), 100 + Bench.UNDEFINED);
     x = Bench.ran("0 1 998 {4 string cvs cvn pop} for");
     b.due("999 names", x.look(7), 999);
     b.due("one more", Bench.more(x, "/last"), 0);

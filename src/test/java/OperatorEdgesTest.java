@@ -157,6 +157,7 @@ public final class OperatorEdgesTest {
     b.fails("1 0 div", Bench.RESULT, "div", "0:1 0:0");
     b.fails("0 0 div", Bench.RESULT, "div", "0:0 0:0");
     b.fails("1.5 0.0 div", Bench.RESULT, "div", "1:98304 1:0");
+    b.fails("40000 0 div", Bench.RANGE, "div", "0:40000 0:0");
     b.fails("-32768.0 -1 div", Bench.RANGE, "div", "1:-2147483648 0:-1");
     b.gives("-32768.0 1 div -32767.0 -1 div", "1:-2147483648 1:2147418112");
     b.gives("7 2 idiv -7 2 idiv 7 -2 idiv -7 -2 idiv", "0:3 0:-3 0:-3 0:3");

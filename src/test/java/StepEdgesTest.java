@@ -314,6 +314,9 @@ public final class StepEdgesTest {
     }
     b.gives(chain + "n50 {n50} exec /n49 cvx exec", "0:7 0:7 0:7");
     b.fails(chain + "n51", Bench.LIMIT, "n51", "");
+    // In the same step: exec's own name is the first one of it, an operator of a procedure has none.
+    b.fails(chain + "/n50 cvx exec", Bench.LIMIT, "exec", "5:3x");
+    b.gives(chain + "/n50 cvx //exec", "0:7");
     b.fails(chain + "{n51} exec", Bench.LIMIT, "n51", "");
     b.fails(chain + "/n51 cvx exec", Bench.LIMIT, "exec", "5:3x");
     PaintTongue x = Bench.ran(chain + "/n51 cvx stopped");
